@@ -1,0 +1,222 @@
+import java.util.Random;
+
+/** Random runs of 512 calls, each answer compared with that of the Reference. */
+public final class RandomRunsTest {
+    private static final int RUNS = 400;
+    private static final int CALLS = 512;
+    private static final String[] NAMES = {"set", "square", "row", "chalk", "stroke", "rub", "draw", "mend", "awning",
+        "rain", "crowd", "pass", "at", "of", "squares", "ofHue", "rains", "count", "from", "bestMark", "needs",
+        "lastsFor", "rightIn", "bestAwning", "put", "wipe", "fault", "carryOut", "undo", "save", "restore"};
+    private static final int[] WEIGHTS = {4, 6, 8, 8, 20, 3, 8, 3, 8, 8, 5, 8, 14, 12, 10, 6, 4, 14, 4, 1, 4, 1, 3, 1,
+        14, 1, 6, 6, 7, 2, 3};
+    private static final String[] PIECES = {"d", ";", "h1", "h2", ";d", ";h1", "h0", "h48", "h49", "k1*9", ";k2*99",
+        "k0*1", "k7*999", "k3*1000", "r0=5", ";r1=9", "r99=1", "r100=1", "r0=0", "f-3@1*9", "f-3@1", "*25", "f|7",
+        "@2*1", "f|15@23*99", "f-16@0*1", "x", "00", "01", "@", "=", "9", "|", "-", "~", "!"};
+
+    private final Random random;
+    private final ChalkSquares x = new ChalkSquares();
+    private final Reference y = new Reference();
+    private final StringBuilder calls = new StringBuilder();
+
+    private RandomRunsTest(long seed) {
+        random = new Random(seed);
+    }
+
+    public static void main(String[] args) {
+        Check check = new Check("RandomRunsTest");
+        int runs = args.length > 0 ? Integer.parseInt(args[0]) : RUNS;
+        int first = args.length > 1 ? Integer.parseInt(args[1]) : 0;
+        for (int run = first; run < first + runs; run++) {
+            if (!new RandomRunsTest(run).agrees(check, run)) {
+                break;
+            }
+        }
+        check.end();
+    }
+
+    private boolean agrees(Check check, int run) {
+        for (int i = 0; i < CALLS; i++) {
+            String name = pick();
+            long[] a = arguments(name);
+            int got = callClass(name, a);
+            int want = callReference(name, a);
+            String call = name + java.util.Arrays.toString(a);
+            calls.append(call).append(" = ").append(want).append('\n');
+            check.due("run " + run + " call " + i + " " + call, got, want);
+            if (got != want) {
+                System.out.println(calls);
+                return false;
+            }
+        }
+        return sameFlags(check, run);
+    }
+
+    private boolean sameFlags(Check check, int run) {
+        boolean same = true;
+        for (int flag = 0; flag < 256; flag++) {
+            for (int what = 0; what < 6; what++) {
+                int got = x.at(flag / 16, flag % 16, what);
+                int want = y.at(flag / 16, flag % 16, what);
+                check.due("run " + run + " at the end: flag " + flag + " what " + what, got, want);
+                same &= got == want;
+            }
+        }
+        return same;
+    }
+
+    private String pick() {
+        int sum = 0;
+        for (int weight : WEIGHTS) sum += weight;
+        int place = random.nextInt(sum);
+        int i = 0;
+        while (place >= WEIGHTS[i]) {
+            place -= WEIGHTS[i];
+            i++;
+        }
+        return NAMES[i];
+    }
+
+    /** Mostly a value within, sometimes one beside the range or far from it. */
+    private int within(int least, int most) {
+        int kind = random.nextInt(60);
+        if (kind == 0) return least - 1;
+        if (kind == 1) return most + 1;
+        if (kind == 2) return random.nextInt();
+        if (kind == 3) return least;
+        if (kind == 4) return most;
+        return least + random.nextInt(most - least + 1);
+    }
+
+    /** The squares that the pavement shows are mostly those of few hues. */
+    private int hue(int least) {
+        return random.nextInt(4) == 0 ? within(least, 7) : least + random.nextInt(3);
+    }
+
+    private int hues() {
+        if (random.nextInt(20) == 0) return within(0, 16777215);
+        int[] some = {0, 011111111, 022222222, 01222210, 011110000, 03333, 012121212};
+        return some[random.nextInt(some.length)];
+    }
+
+    private long text() {
+        if (random.nextInt(30) == 0) return random.nextLong();
+        if (random.nextInt(30) == 0) return random.nextInt(3) == 0 ? 0 : 'd' * 65536L;
+        String piece = PIECES[random.nextInt(random.nextInt(3) == 0 ? PIECES.length : 16)];
+        long number = 0;
+        for (int i = 0; i < piece.length() && i < 8; i++) number = number << 8 | piece.charAt(i);
+        return number;
+    }
+
+    private long[] setArguments() {
+        int[] least = {2, 1, 0, 1, 0, 1};
+        int[] most = {40, 40, 15, 9, 9, 99};
+        int setting = within(0, 5);
+        boolean known = setting >= 0 && setting < 6;
+        return new long[] {setting, known ? within(least[setting], most[setting]) : within(1, 9)};
+    }
+
+    private long[] arguments(String name) {
+        switch (name) {
+            case "set": return setArguments();
+            case "square": return new long[] {within(0, 7), within(0, 7), hue(0)};
+            case "row": return new long[] {within(0, 7), hues()};
+            case "chalk": return new long[] {hue(1), within(1, random.nextBoolean() ? 999 : 20)};
+            case "stroke": return new long[] {within(0, 15), within(0, 15), hue(1)};
+            case "rub": case "awning": return new long[] {within(0, 15), within(0, 15)};
+            case "draw": return random.nextBoolean() ? new long[] {0, 15} : new long[] {within(0, 15), within(0, 15)};
+            case "rain": return new long[] {random.nextBoolean() ? within(0, 5) : within(0, 99), within(1, 9)};
+            case "crowd": return new long[] {within(0, 1), within(0, 15), within(0, 23), within(1, 99)};
+            case "pass": return new long[] {random.nextInt(3) > 0 ? within(1, 3) : within(1, 48)};
+            case "at": return new long[] {within(0, 15), within(0, 15), within(0, 5)};
+            case "of": return new long[] {within(0, 7), within(0, 7), within(0, 6)};
+            case "squares": return new long[] {within(0, 7), within(0, 3)};
+            case "ofHue": return new long[] {hue(0), within(0, 3)};
+            case "rains": return new long[] {random.nextBoolean() ? within(0, 5) : within(0, 99)};
+            case "count": return new long[] {within(0, 17)};
+            case "from": return new long[] {within(2, 40), within(1, 40), within(0, 15)};
+            case "bestMark": return new long[] {within(0, 1)};
+            case "needs": return new long[] {hue(1)};
+            case "rightIn": return new long[] {within(0, 48)};
+            case "bestAwning": return new long[] {within(1, 12), within(0, 1)};
+            case "put": return new long[] {text()};
+            case "save": case "restore": return new long[] {within(0, 1)};
+            default: return new long[0];
+        }
+    }
+
+    private int callClass(String name, long[] v) {
+        int[] a = new int[4];
+        for (int i = 0; i < v.length; i++) a[i] = (int) v[i];
+        switch (name) {
+            case "set": return x.set(a[0], a[1]);
+            case "square": return x.square(a[0], a[1], a[2]);
+            case "row": return x.row(a[0], a[1]);
+            case "chalk": return x.chalk(a[0], a[1]);
+            case "stroke": return x.stroke(a[0], a[1], a[2]);
+            case "rub": return x.rub(a[0], a[1]);
+            case "draw": return x.draw(a[0], a[1]);
+            case "mend": return x.mend();
+            case "awning": return x.awning(a[0], a[1]);
+            case "rain": return x.rain(a[0], a[1]);
+            case "crowd": return x.crowd(a[0], a[1], a[2], a[3]);
+            case "pass": return x.pass(a[0]);
+            case "at": return x.at(a[0], a[1], a[2]);
+            case "of": return x.of(a[0], a[1], a[2]);
+            case "squares": return x.squares(a[0], a[1]);
+            case "ofHue": return x.ofHue(a[0], a[1]);
+            case "rains": return x.rains(a[0]);
+            case "count": return x.count(a[0]);
+            case "from": return x.from(a[0], a[1], a[2]);
+            case "bestMark": return x.bestMark(a[0]);
+            case "needs": return x.needs(a[0]);
+            case "lastsFor": return x.lastsFor();
+            case "rightIn": return x.rightIn(a[0]);
+            case "bestAwning": return x.bestAwning(a[0], a[1]);
+            case "put": return x.put(v[0]);
+            case "wipe": return x.wipe();
+            case "fault": return x.fault();
+            case "carryOut": return x.carryOut();
+            case "undo": return x.undo();
+            case "save": return x.save(a[0]);
+            default: return x.restore(a[0]);
+        }
+    }
+
+    private int callReference(String name, long[] v) {
+        int[] a = new int[4];
+        for (int i = 0; i < v.length; i++) a[i] = (int) v[i];
+        switch (name) {
+            case "set": return y.set(a[0], a[1]);
+            case "square": return y.square(a[0], a[1], a[2]);
+            case "row": return y.row(a[0], a[1]);
+            case "chalk": return y.chalk(a[0], a[1]);
+            case "stroke": return y.stroke(a[0], a[1], a[2]);
+            case "rub": return y.rub(a[0], a[1]);
+            case "draw": return y.draw(a[0], a[1]);
+            case "mend": return y.mend();
+            case "awning": return y.awning(a[0], a[1]);
+            case "rain": return y.rain(a[0], a[1]);
+            case "crowd": return y.crowd(a[0], a[1], a[2], a[3]);
+            case "pass": return y.pass(a[0]);
+            case "at": return y.at(a[0], a[1], a[2]);
+            case "of": return y.of(a[0], a[1], a[2]);
+            case "squares": return y.squares(a[0], a[1]);
+            case "ofHue": return y.ofHue(a[0], a[1]);
+            case "rains": return y.rains(a[0]);
+            case "count": return y.count(a[0]);
+            case "from": return y.from(a[0], a[1], a[2]);
+            case "bestMark": return y.bestMark(a[0]);
+            case "needs": return y.needs(a[0]);
+            case "lastsFor": return y.lastsFor();
+            case "rightIn": return y.rightIn(a[0]);
+            case "bestAwning": return y.bestAwning(a[0], a[1]);
+            case "put": return y.put(v[0]);
+            case "wipe": return y.wipe();
+            case "fault": return y.fault();
+            case "carryOut": return y.carryOut();
+            case "undo": return y.undo();
+            case "save": return y.save(a[0]);
+            default: return y.restore(a[0]);
+        }
+    }
+}
