@@ -846,7 +846,7 @@ public final class ChalkSquares {
             int water = 0;
             for (int row = LINES - 1; row >= 0; row--) {
                 int flag = flagAt(row, column);
-                boolean covered = flag == awning || awningOver(flag) > 0;
+                boolean covered = flag < 0 || flag == awning || awnings[flag] > 0;
                 water = water / 2 + (covered ? 0 : strength);
                 soaked[row] += water;
             }

@@ -1,9 +1,10 @@
 import java.util.Random;
 
-/** Random runs of 512 calls, each answer compared with that of the Reference. */
+/** Random runs of at most 512 calls, each answer compared with that of the Reference. */
 public final class RandomRunsTest {
-    private static final int RUNS = 400;
+    private static final int RUNS = 600;
     private static final int CALLS = 512;
+    private static final int FLAGS = 256;
     private static final String[] NAMES = {"set", "square", "row", "chalk", "stroke", "rub", "draw", "mend", "awning",
         "rain", "crowd", "pass", "at", "of", "squares", "ofHue", "rains", "count", "from", "bestMark", "needs",
         "lastsFor", "rightIn", "bestAwning", "put", "wipe", "fault", "carryOut", "undo", "save", "restore"};
@@ -35,7 +36,9 @@ public final class RandomRunsTest {
     }
 
     private boolean agrees(Check check, int run) {
-        for (int i = 0; i < CALLS; i++) {
+        // Every other run leaves calls to look at each flag at its end.
+        boolean looksAtAll = run % 2 == 1;
+        for (int i = 0; i < (looksAtAll ? CALLS - FLAGS : CALLS); i++) {
             String name = pick();
             long[] a = arguments(name);
             int got = callClass(name, a);
@@ -48,18 +51,20 @@ public final class RandomRunsTest {
                 return false;
             }
         }
-        return sameFlags(check, run);
+        return !looksAtAll || sameFlags(check, run);
     }
 
     private boolean sameFlags(Check check, int run) {
         boolean same = true;
-        for (int flag = 0; flag < 256; flag++) {
-            for (int what = 0; what < 6; what++) {
-                int got = x.at(flag / 16, flag % 16, what);
-                int want = y.at(flag / 16, flag % 16, what);
-                check.due("run " + run + " at the end: flag " + flag + " what " + what, got, want);
-                same &= got == want;
-            }
+        for (int flag = 0; flag < FLAGS; flag++) {
+            int what = random.nextInt(6);
+            int got = x.at(flag / 16, flag % 16, what);
+            int want = y.at(flag / 16, flag % 16, what);
+            check.due("run " + run + " at the end: flag " + flag + " what " + what, got, want);
+            same &= got == want;
+        }
+        if (!same) {
+            System.out.println(calls);
         }
         return same;
     }

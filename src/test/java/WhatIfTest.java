@@ -1,0 +1,300 @@
+/** Promises 20 to 25: from, bestMark, needs, lastsFor, rightIn, bestAwning. */
+public final class WhatIfTest {
+    private static final int BAD_VALUE = ChalkSquares.BAD_VALUE, NONE = ChalkSquares.NONE;
+    private static final int LOWEST = Integer.MIN_VALUE, HIGHEST = Integer.MAX_VALUE;
+
+    private final Check check = new Check("WhatIfTest");
+
+    public static void main(String[] args) {
+        WhatIfTest test = new WhatIfTest();
+        test.from();
+        test.bestMark();
+        test.needs();
+        test.lastsFor();
+        test.lastsForTwoHundredHours();
+        test.lastsThoughMoreAreRightFirst();
+        test.rightIn();
+        test.bestAwning();
+        test.bestAwningOfSeveral();
+        test.bestAwningByHours();
+        test.bestAwningWithCrowds();
+        test.allAwnings();
+        test.boundOfHoursDoesNotMatter();
+        test.nothingChanges();
+        test.check.end();
+    }
+
+    // Promise 20
+    private void from() {
+        ChalkSquares x = Scene.rowDrawn();
+        check.due("from the mark", x.from(14, 8, 8), 56);
+        // Four squares are not right, and the rows 1, 4, 5, 6, 7 have 8, 1, 1, 1, 2 blind ones.
+        check.due("four columns aside", x.from(14, 8, 4), 47);
+        check.due("from(2, 40, 8): one flag of 16 has the hue", x.from(2, 40, 8), 0);
+        check.due("the settings stay", x.count(10) * 10000 + x.count(11) * 100 + x.count(12), 140808);
+        check.due("and what is seen from the mark", x.count(4), 56);
+        ChalkSquares y = new ChalkSquares();
+        check.due("from(2, 40, 8)", y.from(2, 40, 8), 8);
+        check.due("from(40, 1, 8)", y.from(40, 1, 8), 0);
+        check.holds("from(2, 1, 0)", y.from(2, 1, 0) >= 0);
+        check.holds("from(40, 40, 15)", y.from(40, 40, 15) >= 0);
+        int[] far = {LOWEST, -1, HIGHEST};
+        for (int n : far) {
+            check.due("eye " + n, y.from(n, 8, 8), BAD_VALUE);
+            check.due("away " + n, y.from(14, n, 8), BAD_VALUE);
+            check.due("mark " + n, y.from(14, 8, n), BAD_VALUE);
+        }
+        check.due("eye 1", y.from(1, 8, 8), BAD_VALUE);
+        check.due("eye 41", y.from(41, 8, 8), BAD_VALUE);
+        check.due("away 0", y.from(14, 0, 8), BAD_VALUE);
+        check.due("away 41", y.from(14, 41, 8), BAD_VALUE);
+        check.due("mark 16", y.from(14, 8, 16), BAD_VALUE);
+    }
+
+    // Promise 21
+    private void bestMark() {
+        ChalkSquares x = new ChalkSquares();
+        check.due("the lowest of two", x.bestMark(0), 7);
+        check.due("with 56", x.bestMark(1), 56);
+        ChalkSquares y = Scene.rowDrawn();
+        check.due("where it was drawn", y.bestMark(0), 8);
+        check.due("with all", y.bestMark(1), 56);
+        y.set(ChalkSquares.MARK, 3);
+        check.due("the mark does not matter", y.bestMark(0), 8);
+        y.set(ChalkSquares.EYE, 2);
+        y.set(ChalkSquares.AWAY, 40);
+        y.row(0, 0);
+        check.due("but the eye does, and how far it is", y.bestMark(1), 8);
+        ChalkSquares z = new ChalkSquares();
+        z.set(ChalkSquares.MARK, 6);
+        z.row(0, Scene.ROW_OF_ONES);
+        z.chalk(1, 99);
+        z.draw(0, 15);
+        check.due("from 6 one more is blind, from 7 one is not right", z.bestMark(0), 6);
+        check.due("55", z.bestMark(1), 55);
+        int[] none = {-1, 2, LOWEST, HIGHEST};
+        for (int what : none) {
+            check.due("bestMark(" + what + ")", z.bestMark(what), BAD_VALUE);
+        }
+    }
+
+    // Promise 22
+    private void needs() {
+        ChalkSquares x = new ChalkSquares();
+        x.row(0, Scene.ROW_OF_ONES);
+        x.row(1, 022222222);
+        check.due("nine flags, without chalk", x.needs(1), 9);
+        check.due("none for blind squares", x.needs(2), 0);
+        Scene.stroke(x, 0, 8, 1);
+        check.due("one has it", x.needs(1), 8);
+        Scene.stroke(x, 0, 9, 2);
+        check.due("another hue does not count", x.needs(1), 8);
+        x.square(0, 4, 7);
+        check.due("the hue 7", x.needs(7), 2);
+        check.due("two less", x.needs(1), 7);
+        check.due("rubbings are no strokes", x.needs(2), 0);
+        int[] none = {0, -1, 8, LOWEST, HIGHEST};
+        for (int hue : none) {
+            check.due("needs(" + hue + ")", x.needs(hue), BAD_VALUE);
+        }
+    }
+
+    // Promise 23
+    private void lastsFor() {
+        ChalkSquares x = Scene.rowDrawn();
+        check.due("nothing wears it off", x.lastsFor(), NONE);
+        x.rain(9, 9);
+        check.due("rain in the tenth hour", x.lastsFor(), 10);
+        x.rain(5, 3);
+        check.due("3 of strength are 5 of water in the sixth hour", x.lastsFor(), 6);
+        x.crowd(1, 12, 0, 29);
+        check.due("two coats are not all", x.lastsFor(), 6);
+        x.crowd(1, 12, 0, 1);
+        check.due("three are, in the first hour", x.lastsFor(), 1);
+        x.pass(1);
+        check.due("now one less is right, and five hours are left", x.lastsFor(), 5);
+        ChalkSquares y = new ChalkSquares();
+        Scene.stroke(y, 15, 15, 1);
+        y.rain(0, 9);
+        check.due("a flag that shows nothing does not matter", y.lastsFor(), NONE);
+    }
+
+    private void lastsForTwoHundredHours() {
+        ChalkSquares x = new ChalkSquares();
+        x.set(ChalkSquares.COAT, 9);
+        x.square(0, 0, 1);
+        Scene.stroke(x, 0, 4, 1);
+        x.crowd(0, 0, 8, 10);
+        check.due("the ninth coat goes in the hour 201", x.lastsFor(), NONE);
+        x.pass(1);
+        check.due("200 hours from the hour 1", x.lastsFor(), 200);
+        x.pass(48);
+        check.due("48 later", x.lastsFor(), 152);
+    }
+
+    private void lastsThoughMoreAreRightFirst() {
+        ChalkSquares x = new ChalkSquares();
+        x.square(0, 0, 1);
+        x.square(0, 1, 2);
+        Scene.stroke(x, 0, 4, 1);
+        Scene.stroke(x, 0, 5, 2);
+        Scene.stroke(x, 0, 5, 2);
+        x.set(ChalkSquares.COAT, 1);
+        Scene.stroke(x, 0, 12, 5);
+        x.crowd(1, 12, 0, 10);
+        x.crowd(1, 4, 1, 30);
+        x.crowd(1, 5, 2, 30);
+        check.due("right now", x.rightIn(0), 55);
+        check.due("one more", x.rightIn(1), 56);
+        check.due("as many", x.rightIn(2), 55);
+        check.due("one less", x.rightIn(27), 54);
+        check.due("fewer than now", x.lastsFor(), 27);
+    }
+
+    // Promise 24
+    private void rightIn() {
+        ChalkSquares x = Scene.rowDrawn();
+        x.rain(5, 3);
+        x.crowd(0, 0, 23, 99);
+        check.due("now", x.rightIn(0), 56);
+        check.due("behind five hours", x.rightIn(5), 56);
+        check.due("behind six hours", x.rightIn(6), 48);
+        check.due("behind two days", x.rightIn(48), 48);
+        check.due("hours so far", x.count(0), 0);
+        int[] none = {-1, 49, LOWEST, HIGHEST};
+        for (int hours : none) {
+            check.due("rightIn(" + hours + ")", x.rightIn(hours), BAD_VALUE);
+        }
+    }
+
+    // Promise 25
+    private void bestAwning() {
+        ChalkSquares x = new ChalkSquares();
+        Scene.stroke(x, 5, 5, 1);
+        check.due("without rain the first flag", x.bestAwning(1, 0), 0);
+        check.due("all coats stay", x.bestAwning(1, 1), 3);
+        x.rain(0, 2);
+        check.due("over the flag", x.bestAwning(1, 0), 16 * 5 + 5);
+        check.due("1 of water comes from behind", x.bestAwning(1, 1), 2);
+        x.awning(5, 5);
+        check.due("over the flag behind", x.bestAwning(1, 0), 16 * 6 + 5);
+        check.due("no water comes", x.bestAwning(1, 1), 3);
+        x.awning(5, 5);
+        check.due("as before", x.bestAwning(12, 1), 2);
+        int[] far = {0, -1, 13, LOWEST, HIGHEST};
+        for (int hours : far) {
+            check.due("hours " + hours, x.bestAwning(hours, 0), BAD_VALUE);
+        }
+        int[] none = {-1, 2, LOWEST, HIGHEST};
+        for (int what : none) {
+            check.due("what " + what, x.bestAwning(1, what), BAD_VALUE);
+        }
+    }
+
+    private void bestAwningOfSeveral() {
+        ChalkSquares x = new ChalkSquares();
+        Scene.stroke(x, 1, 2, 1);
+        Scene.stroke(x, 0, 9, 1);
+        x.rain(0, 1);
+        check.due("the first one row by row", x.bestAwning(1, 0), 9);
+        check.due("one coat is saved", x.bestAwning(1, 1), 5);
+        Scene.stroke(x, 0, 4, 1);
+        check.due("the first one of the row", x.bestAwning(1, 0), 4);
+        x.awning(0, 4);
+        check.due("that has none yet", x.bestAwning(1, 0), 9);
+        x.awning(0, 9);
+        check.due("nor that", x.bestAwning(1, 0), 18);
+        x.awning(1, 2);
+        check.due("nothing more to save: the first flag", x.bestAwning(1, 0), 0);
+        x.awning(0, 0);
+        check.due("the first flag that has none", x.bestAwning(1, 0), 1);
+    }
+
+    private void bestAwningByHours() {
+        ChalkSquares x = new ChalkSquares();
+        x.set(ChalkSquares.COAT, 9);
+        Scene.stroke(x, 0, 9, 1);
+        Scene.stroke(x, 0, 9, 1);
+        Scene.stroke(x, 0, 9, 1);
+        x.rain(3, 9);
+        x.rain(11, 1);
+        check.due("before the rain", x.bestAwning(3, 0), 0);
+        check.due("before the rain", x.bestAwning(3, 1), 27);
+        check.due("behind the rain", x.bestAwning(4, 0), 9);
+        check.due("8 of 17 of water come from behind", x.bestAwning(4, 1), 19);
+        check.due("the last rain brings none from behind", x.bestAwning(12, 1), 19);
+        x.set(ChalkSquares.WASH, 2);
+        check.due("twice as much is washed off", x.bestAwning(12, 1), 11);
+        x.pass(4);
+        check.due("too late for the first rain: 27 - 27", x.bestAwning(8, 1), 0);
+    }
+
+    private void bestAwningWithCrowds() {
+        ChalkSquares x = new ChalkSquares();
+        Scene.stroke(x, 0, 1, 1);
+        Scene.stroke(x, 0, 9, 1);
+        x.rain(0, 1);
+        check.due("the first one", x.bestAwning(2, 0), 1);
+        x.crowd(1, 1, 1, 30);
+        check.due("the crowd has not walked", x.bestAwning(1, 0), 1);
+        check.due("what the crowd takes anyway is not saved", x.bestAwning(2, 0), 9);
+        check.due("the coats of the other", x.bestAwning(2, 1), 3);
+        x.crowd(1, 9, 1, 9);
+        check.due("nine feet take none", x.bestAwning(2, 1), 3);
+        x.set(ChalkSquares.FEET, 9);
+        check.due("now they take one", x.bestAwning(2, 1), 2);
+    }
+
+    private void allAwnings() {
+        ChalkSquares x = new ChalkSquares();
+        for (int flag = 0; flag < 255; flag++) {
+            x.awning(flag / 16, flag % 16);
+        }
+        check.due("the last flag", x.bestAwning(1, 0), 255);
+        check.due("no coats", x.bestAwning(1, 1), 0);
+        x.awning(15, 15);
+        check.due("all have one", x.bestAwning(1, 0), NONE);
+        check.due("all have one", x.bestAwning(12, 1), NONE);
+        check.due("wrong hours first", x.bestAwning(13, 0), BAD_VALUE);
+        check.due("wrong what first", x.bestAwning(1, 2), BAD_VALUE);
+        x.awning(7, 3);
+        check.due("one has none", x.bestAwning(1, 0), 16 * 7 + 3);
+    }
+
+    private void boundOfHoursDoesNotMatter() {
+        ChalkSquares x = new ChalkSquares();
+        for (int n = 0; n < 208; n++) {
+            x.pass(48);
+        }
+        x.pass(15);
+        x.row(0, Scene.ROW_OF_ONES);
+        x.chalk(1, 100);
+        x.draw(0, 0);
+        x.rain(5, 3);
+        check.due("hours", x.count(0), 9999);
+        check.due("lastsFor()", x.lastsFor(), 6);
+        check.due("rightIn(6)", x.rightIn(6), 48);
+        check.due("rightIn(48)", x.rightIn(48), 48);
+        check.due("bestAwning(12, 0)", x.bestAwning(12, 0), 4);
+        check.due("3 - 2 coats", x.bestAwning(12, 1), 1);
+        check.due("hours", x.count(0), 9999);
+    }
+
+    private void nothingChanges() {
+        ChalkSquares x = Scene.busy();
+        Snapshot before = Snapshot.of(x);
+        x.from(40, 1, 0);
+        x.bestMark(0);
+        x.needs(1);
+        x.lastsFor();
+        x.rightIn(48);
+        x.bestAwning(12, 0);
+        check.holds("what if changes nothing", Snapshot.of(x).isSameAs(before));
+        x.from(41, 1, 0);
+        x.bestMark(2);
+        x.needs(8);
+        x.rightIn(49);
+        x.bestAwning(13, 0);
+        check.holds("nor if it is refused", Snapshot.of(x).isSameAs(before));
+    }
+}
