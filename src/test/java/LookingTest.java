@@ -14,6 +14,7 @@ public final class LookingTest {
         test.of();
         test.hueOfThePicture();
         test.outlines();
+        test.outlineAroundAGap();
         test.squares();
         test.ofHue();
         test.rains();
@@ -169,6 +170,20 @@ public final class LookingTest {
         check.due("the outlines differ", x.count(7), 0);
     }
 
+    private void outlineAroundAGap() {
+        ChalkSquares x = new ChalkSquares();
+        for (int row = 2; row <= 6; row++) {
+            x.row(row, 011111111);
+        }
+        check.due("no gap", x.squares(4, 2), 129);
+        x.square(4, 3, 0);
+        check.due("both beside it, and the edges", x.squares(4, 2), 1 + 4 + 16 + 128);
+        check.due("the one above it", x.squares(5, 2), 1 + 8 + 128);
+        check.due("the one below it", x.squares(3, 2), 1 + 8 + 128);
+        x.square(4, 3, 7);
+        check.due("the gap is closed", x.squares(4, 2), 129);
+    }
+
     // Promise 16
     private void squares() {
         ChalkSquares x = Scene.rowDrawn();
@@ -184,8 +199,10 @@ public final class LookingTest {
         check.due("one is not of the outline", x.squares(0, 2), 253);
         check.due("the picture is as it was", x.squares(0, 3), 255);
         check.due("the row 7", x.squares(7, 0), 255);
+        check.due("no outline in the row 7", x.squares(7, 2) + x.squares(7, 3), 0);
         x.set(ChalkSquares.MARK, 0);
         check.due("half of it is blind from the side", x.squares(0, 1), 15);
+        check.due("and half of seven rows", x.count(5), 36);
     }
 
     // Promise 17
@@ -206,6 +223,9 @@ public final class LookingTest {
         check.due("one flag is lost, three coats come", x.ofHue(1, 3), 27);
         check.due("eight flags", x.ofHue(1, 1), 8);
         check.due("a square with 7", x.ofHue(7, 2), 1);
+        Scene.stroke(x, 0, 0, 7);
+        Scene.stroke(x, 15, 15, 7);
+        check.due("the first flag and the last one", x.ofHue(7, 3), 9);
     }
 
     // Promise 18
@@ -242,6 +262,12 @@ public final class LookingTest {
         for (int what = 0; what < counts.length; what++) {
             check.due("count(" + what + ")", x.count(what), counts[what]);
         }
+        ChalkSquares first = new ChalkSquares();
+        first.square(0, 0, 1);
+        check.due("the outlines differ in the row 0", first.count(7), 0);
+        first.set(ChalkSquares.EYE, 40);
+        first.set(ChalkSquares.AWAY, 1);
+        check.due("all are blind", first.count(5), 64);
         ChalkSquares y = Scene.rowDrawn();
         check.due("flags that are not bare", y.count(3), 9);
         check.due("right squares", y.count(4), 56);

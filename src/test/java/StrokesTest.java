@@ -14,10 +14,12 @@ public final class StrokesTest {
         test.rub();
         test.draw();
         test.drawRubs();
+        test.drawsThoseRowsAlone();
         test.drawUsesChalkUp();
         test.drawErrors();
         test.mend();
         test.mendAllOrNone();
+        test.mendFromTheMark();
         test.mendLooksAtThePicture();
         test.refusalsChangeNothing();
         test.check.end();
@@ -106,13 +108,15 @@ public final class StrokesTest {
         check.due("a bare flag", x.rub(15, 0), 0);
         check.due("rubbings count, too", x.count(9), 2);
         check.due("rub(0, 15)", x.rub(0, 15), 0);
-        check.due("strokes stay", x.count(8), 2);
+        x.stroke(0, 0, 5);
+        check.due("rub(0, 0)", x.rub(0, 0), 3);
+        check.due("strokes stay", x.count(8), 3);
         int[] none = {-1, 16, LOWEST, HIGHEST};
         for (int n : none) {
             check.due("no row " + n, x.rub(n, 0), NO_SUCH);
             check.due("no column " + n, x.rub(0, n), NO_SUCH);
         }
-        check.due("refused rubbings", x.count(9), 3);
+        check.due("refused rubbings", x.count(9), 4);
     }
 
     // Promise 8
@@ -158,6 +162,20 @@ public final class StrokesTest {
         x.chalk(5, 1);
         check.due("a stroke and a rubbing", x.draw(0, 15), 2);
         check.due("the flag that has it has no coat more", x.at(0, 4, 1), 3);
+    }
+
+    private void drawsThoseRowsAlone() {
+        ChalkSquares x = new ChalkSquares();
+        x.chalk(4, 9);
+        x.stroke(3, 15, 4);
+        x.stroke(4, 0, 4);
+        x.stroke(5, 15, 4);
+        x.stroke(6, 0, 4);
+        check.due("two flags of the rows 4 and 5", x.draw(4, 5), 2);
+        check.due("the row before stays", x.at(3, 15, 1), 3);
+        check.due("the row behind stays", x.at(6, 0, 1), 3);
+        check.due("the row 3", x.draw(3, 3), 1);
+        check.due("the row 6", x.draw(6, 6), 1);
     }
 
     private void drawUsesChalkUp() {
@@ -232,11 +250,21 @@ public final class StrokesTest {
         check.due("strokes so far", x.count(8), 3);
     }
 
+    private void mendFromTheMark() {
+        ChalkSquares x = new ChalkSquares();
+        x.set(ChalkSquares.MARK, 4);
+        x.row(0, Scene.ROW_OF_ONES);
+        x.chalk(1, 8);
+        check.due("seven squares with eight flags", x.mend(), 7);
+        check.due("the first flag of all", x.at(0, 0, 1), 3);
+        check.due("no chalk for the last square", x.squares(0, 0), 127);
+    }
+
     private void mendLooksAtThePicture() {
         ChalkSquares x = new ChalkSquares();
         x.square(0, 4, 2);
         x.chalk(1, 9);
-        x.chalk(2, 9);
+        x.chalk(2, 2);
         x.chalk(3, 9);
         x.stroke(0, 8, 2);
         x.stroke(0, 9, 3);
@@ -244,7 +272,7 @@ public final class StrokesTest {
         check.due("draw would touch it", x.at(0, 9, 5), 1);
         x.stroke(0, 9, 1);
         check.due("now the lower one is another", x.mend(), 1);
-        check.due("one flag is drawn", x.count(8), 4);
+        check.due("one flag is drawn, with the last stroke", x.count(8), 4);
         check.due("the other has its coats", x.at(0, 8, 1), 3);
         check.due("both have the hue", x.of(0, 4, 6), 2);
     }

@@ -14,6 +14,7 @@ public final class TextsTest {
         test.fault();
         test.faultOfNumbers();
         test.carryOut();
+        test.carryOutDraw();
         test.carryOutUpToAnError();
         test.carryOutErrors();
         test.carryOutBadText();
@@ -161,6 +162,17 @@ public final class TextsTest {
         check.due("the first text, too", x.undo(), 0);
         check.due("no chalk", x.ofHue(7, 0), 0);
         check.due("no rains", x.count(1), 0);
+    }
+
+    private void carryOutDraw() {
+        ChalkSquares x = new ChalkSquares();
+        x.row(0, 022222222);
+        x.chalk(2, 99);
+        x.stroke(15, 15, 2);
+        Scene.put(x, "d");
+        check.due("one order", x.carryOut(), 1);
+        check.due("it draws from the first row", x.count(8), 10);
+        check.due("to the last one", x.count(9), 1);
     }
 
     private void carryOutUpToAnError() {

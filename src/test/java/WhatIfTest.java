@@ -16,6 +16,7 @@ public final class WhatIfTest {
         test.rightIn();
         test.bestAwning();
         test.bestAwningOfSeveral();
+        test.bestAwningAtTheEdges();
         test.bestAwningByHours();
         test.bestAwningWithCrowds();
         test.allAwnings();
@@ -72,6 +73,17 @@ public final class WhatIfTest {
         z.draw(0, 15);
         check.due("from 6 one more is blind, from 7 one is not right", z.bestMark(0), 6);
         check.due("55", z.bestMark(1), 55);
+        ChalkSquares edge = new ChalkSquares();
+        edge.set(ChalkSquares.MARK, 0);
+        for (int row = 0; row <= 7; row++) {
+            edge.row(row, 043211765);
+        }
+        for (int hue = 1; hue <= 4; hue++) {
+            edge.chalk(hue, 99);
+        }
+        edge.draw(0, 15);
+        check.due("the first column", edge.bestMark(0), 0);
+        check.due("the right half of seven rows", edge.bestMark(1), 28);
         int[] none = {-1, 2, LOWEST, HIGHEST};
         for (int what : none) {
             check.due("bestMark(" + what + ")", z.bestMark(what), BAD_VALUE);
@@ -93,6 +105,8 @@ public final class WhatIfTest {
         check.due("the hue 7", x.needs(7), 2);
         check.due("two less", x.needs(1), 7);
         check.due("rubbings are no strokes", x.needs(2), 0);
+        x.set(ChalkSquares.MARK, 4);
+        check.due("from the mark 4 the first flag counts, too", x.needs(1), 6);
         int[] none = {0, -1, 8, LOWEST, HIGHEST};
         for (int hue : none) {
             check.due("needs(" + hue + ")", x.needs(hue), BAD_VALUE);
@@ -208,6 +222,18 @@ public final class WhatIfTest {
         check.due("nothing more to save: the first flag", x.bestAwning(1, 0), 0);
         x.awning(0, 0);
         check.due("the first flag that has none", x.bestAwning(1, 0), 1);
+    }
+
+    private void bestAwningAtTheEdges() {
+        ChalkSquares x = new ChalkSquares();
+        Scene.stroke(x, 15, 15, 1);
+        Scene.stroke(x, 0, 0, 1);
+        x.rain(0, 1);
+        check.due("the first column", x.bestAwning(1, 0), 0);
+        check.due("all coats but one", x.bestAwning(1, 1), 5);
+        x.awning(0, 0);
+        check.due("the last column, the last row", x.bestAwning(1, 0), 255);
+        check.due("all coats", x.bestAwning(1, 1), 6);
     }
 
     private void bestAwningByHours() {
