@@ -11,18 +11,25 @@ public final class HoursTest {
         test.awning();
         test.rain();
         test.mostRains();
+        test.rainThatIsOver();
         test.crowd();
         test.mostCrowds();
         test.waterRunsOn();
         test.waterUnderAwnings();
+        test.waterRunsOutUnderAwnings();
         test.washing();
+        test.waterOfManyRains();
         test.walking();
         test.feetAreCountedOn();
+        test.feetOnFlagsThatBecomeBare();
         test.fewerFeetTakeACoat();
+        test.fewestAndMostFeet();
         test.hoursOfTheDay();
+        test.eachHourOfTheDay();
         test.becomingBare();
+        test.bareInSeveralHours();
         test.lastHour();
-        test.refusalsChangeNothing();
+        test.upToTheLastHour();
         test.check.end();
     }
 
@@ -88,6 +95,36 @@ public final class HoursTest {
         }
         check.due("one more", x.rain(3, 1), TOO_MANY);
         check.due("twelve of 1", x.rains(3), 12);
+    }
+
+    private void rainThatIsOver() {
+        ChalkSquares x = new ChalkSquares();
+        x.set(ChalkSquares.COAT, 9);
+        x.rain(0, 9);
+        x.rain(47, 1);
+        x.rain(48, 2);
+        x.rain(1, 3);
+        x.pass(1);
+        check.due("one is over", x.count(1), 3);
+        check.due("the next hour is this one", x.rains(0), 3);
+        check.due("the hour 47", x.rains(46), 1);
+        Scene.stroke(x, 15, 0, 1);
+        check.due("46 hours", x.pass(46), 0);
+        check.due("3 of 9 are washed off", x.at(15, 0, 1), 6);
+        check.due("two are left", x.count(1), 2);
+        x.pass(1);
+        check.due("1 more", x.at(15, 0, 1), 5);
+        check.due("one is left", x.count(1), 1);
+        check.due("of the hour 48", x.rains(0), 2);
+        x.pass(1);
+        check.due("2 more", x.at(15, 0, 1), 3);
+        check.due("none is left", x.count(1), 0);
+        for (int in = 0; in <= 99; in++) {
+            check.due("rains(" + in + ")", x.rains(in), 0);
+        }
+        x.pass(48);
+        x.pass(48);
+        check.due("it does not rain again", x.at(15, 0, 1), 3);
     }
 
     // Promise 12
@@ -167,6 +204,26 @@ public final class HoursTest {
         check.due("7 in the open again", x.at(10, 0, 1), 2);
     }
 
+    private void waterRunsOutUnderAwnings() {
+        ChalkSquares x = new ChalkSquares();
+        x.set(ChalkSquares.COAT, 9);
+        for (int row = 0; row <= 14; row++) {
+            x.awning(row, 2);
+            Scene.stroke(x, row, 2, 1);
+        }
+        Scene.stroke(x, 15, 2, 1);
+        Scene.stroke(x, 15, 1, 1);
+        x.rain(0, 8);
+        check.due("no flag becomes bare", x.pass(1), 0);
+        int[] washed = {0, 0, 0, 0, 0, 0, 0, 0, 0, 0, 0, 0, 1, 2, 4, 8};
+        for (int row = 0; row <= 15; row++) {
+            check.due("the row " + row, x.at(row, 2, 1), 9 - washed[row]);
+        }
+        check.due("the last row in another column", x.at(15, 1, 1), 1);
+        x.pass(1);
+        check.due("no water stays", x.at(12, 2, 1), 8);
+    }
+
     private void washing() {
         ChalkSquares x = new ChalkSquares();
         x.set(ChalkSquares.COAT, 9);
@@ -184,6 +241,27 @@ public final class HoursTest {
         check.due("at least 0", x.at(15, 3, 1), 0);
         check.due("bare", x.at(15, 3, 0), 0);
         check.due("no rain is left", x.count(1), 0);
+    }
+
+    private void waterOfManyRains() {
+        ChalkSquares x = new ChalkSquares();
+        x.set(ChalkSquares.COAT, 9);
+        x.set(ChalkSquares.WASH, 9);
+        for (int row = 0; row <= 15; row++) {
+            x.chalk(1, 3);
+            x.stroke(row, 3, 1);
+            x.stroke(row, 3, 1);
+            x.stroke(row, 3, 1);
+        }
+        for (int n = 0; n < 24; n++) {
+            x.rain(0, 9);
+        }
+        check.due("24 add up", x.rains(0), 216);
+        check.due("27 coats at least 0", x.pass(1), 16);
+        for (int row = 0; row <= 15; row++) {
+            check.due("coats", x.at(row, 3, 1), 0);
+            check.due("hue", x.at(row, 3, 0), 0);
+        }
     }
 
     private void walking() {
@@ -222,6 +300,21 @@ public final class HoursTest {
         check.due("8 are left over", x.at(2, 2, 4), 8);
     }
 
+    private void feetOnFlagsThatBecomeBare() {
+        ChalkSquares x = new ChalkSquares();
+        x.set(ChalkSquares.COAT, 1);
+        Scene.stroke(x, 9, 9, 1);
+        x.crowd(0, 9, 0, 37);
+        check.due("the flag becomes bare", x.pass(1), 1);
+        check.due("7 are left over, as on a bare one", x.at(9, 9, 4), 7);
+        check.due("as on a bare one", x.at(9, 8, 4), 7);
+        Scene.stroke(x, 9, 9, 1);
+        check.due("7 and 37 take four coats", x.pass(24), 1);
+        check.due("4 are left over", x.at(9, 9, 4), 4);
+        x.undo();
+        check.due("undo brings them back", x.at(9, 9, 4), 7);
+    }
+
     private void fewerFeetTakeACoat() {
         ChalkSquares x = new ChalkSquares();
         x.set(ChalkSquares.COAT, 9);
@@ -238,6 +331,35 @@ public final class HoursTest {
         check.due("none is left over", x.at(2, 2, 4), 0);
     }
 
+    private void fewestAndMostFeet() {
+        ChalkSquares x = new ChalkSquares();
+        x.set(ChalkSquares.FEET, 1);
+        x.set(ChalkSquares.COAT, 9);
+        Scene.stroke(x, 7, 7, 1);
+        x.crowd(0, 7, 0, 1);
+        x.crowd(0, 7, 1, 99);
+        check.due("one foot takes a coat", x.pass(1), 0);
+        check.due("8 are left", x.at(7, 7, 1), 8);
+        check.due("99 feet take all of them, at least 0", x.pass(1), 1);
+        check.due("none is left", x.at(7, 7, 1), 0);
+        check.due("no feet are left over", x.at(7, 7, 4), 0);
+        ChalkSquares y = new ChalkSquares();
+        y.set(ChalkSquares.FEET, 99);
+        Scene.stroke(y, 7, 7, 1);
+        y.crowd(1, 7, 0, 98);
+        y.crowd(1, 7, 1, 1);
+        y.crowd(1, 7, 2, 99);
+        y.pass(1);
+        check.due("98 feet take none", y.at(7, 7, 1), 3);
+        check.due("they are left over", y.at(7, 7, 4), 98);
+        y.pass(1);
+        check.due("one more takes a coat", y.at(7, 7, 1), 2);
+        check.due("none is left over", y.at(7, 7, 4), 0);
+        y.pass(1);
+        check.due("99 take one", y.at(7, 7, 1), 1);
+        check.due("none is left over", y.at(7, 7, 4), 0);
+    }
+
     private void hoursOfTheDay() {
         ChalkSquares x = new ChalkSquares();
         x.crowd(0, 0, 23, 3);
@@ -252,6 +374,24 @@ public final class HoursTest {
         x.pass(48);
         check.due("two days at once", x.at(0, 0, 4), 2);
         check.due("hours", x.count(0), 96);
+    }
+
+    private void eachHourOfTheDay() {
+        for (int hour = 0; hour <= 23; hour++) {
+            ChalkSquares x = new ChalkSquares();
+            x.crowd(1, 15, hour, 3);
+            if (hour > 0) {
+                x.pass(hour);
+            }
+            check.due("before the hour " + hour, x.at(0, 15, 4), 0);
+            x.pass(1);
+            check.due("behind the hour " + hour, x.at(0, 15, 4), 3);
+            x.pass(23);
+            check.due("a day later", x.at(0, 15, 4), 3);
+            x.pass(1);
+            check.due("the same hour again", x.at(0, 15, 4), 6);
+            check.due("hours", x.count(0), hour + 25);
+        }
     }
 
     private void becomingBare() {
@@ -272,6 +412,22 @@ public final class HoursTest {
         check.due("all are bare", x.ofHue(0, 1), 256);
     }
 
+    private void bareInSeveralHours() {
+        ChalkSquares x = new ChalkSquares();
+        for (int column = 0; column <= 5; column++) {
+            Scene.stroke(x, 15, column, 1);
+        }
+        x.crowd(1, 0, 0, 30);
+        x.rain(1, 1);
+        x.rain(1, 1);
+        x.crowd(1, 1, 1, 10);
+        x.crowd(1, 2, 1, 99);
+        x.crowd(1, 3, 2, 9);
+        check.due("one by feet, then two by rain and feet", x.pass(3), 3);
+        check.due("three are left", x.count(3), 3);
+        check.due("bare flags", x.ofHue(0, 1), 253);
+    }
+
     private void lastHour() {
         ChalkSquares x = new ChalkSquares();
         for (int n = 0; n < 208; n++) {
@@ -290,19 +446,21 @@ public final class HoursTest {
         check.due("and is", x.rains(99), 1);
     }
 
-    private void refusalsChangeNothing() {
-        ChalkSquares x = Scene.busy();
-        Snapshot before = Snapshot.of(x);
-        x.awning(16, 0);
-        x.rain(100, 1);
-        x.rain(0, 10);
-        x.crowd(2, 0, 0, 1);
-        x.crowd(0, 16, 0, 1);
-        check.due("pass(0)", x.pass(0), BAD_VALUE);
-        check.due("pass(49)", x.pass(49), BAD_VALUE);
-        check.due("pass(-1)", x.pass(-1), BAD_VALUE);
-        check.due("pass(lowest)", x.pass(LOWEST), BAD_VALUE);
-        check.due("pass(highest)", x.pass(HIGHEST), BAD_VALUE);
-        check.holds("refused changes change nothing", Snapshot.of(x).isSameAs(before));
+    private void upToTheLastHour() {
+        ChalkSquares x = Scene.atHour(9951);
+        x.crowd(0, 5, 14, 4);
+        check.due("48 more are 9999", x.pass(48), 0);
+        check.due("hours", x.count(0), 9999);
+        // The hours 9951 to 9998 are two whole days, and 9998 is the hour 14 of the last one.
+        check.due("two days of crowds", x.at(5, 5, 4), 8);
+        check.due("undo", x.undo(), 5);
+        check.due("hours", x.count(0), 9951);
+        x.pass(1);
+        check.due("48 more would be 10000", x.pass(48), NOT_POSSIBLE);
+        check.due("46", x.pass(46), 0);
+        check.due("no crowd yet in the last hour", x.at(5, 5, 4), 4);
+        check.due("the last hour", x.pass(1), 0);
+        check.due("is the hour 14 of the day", x.at(5, 5, 4), 8);
+        check.due("none more", x.pass(1), NOT_POSSIBLE);
     }
 }

@@ -12,12 +12,18 @@ public final class LookingTest {
         test.seenFromElsewhere();
         test.at();
         test.of();
+        test.noneIsNoError();
+        test.flagsOfAllSquares();
         test.hueOfThePicture();
+        test.lowestOfSeveralHues();
         test.outlines();
         test.outlineAroundAGap();
+        test.edgesAreOutline();
         test.squares();
         test.ofHue();
+        test.coatsOnTheFlagsOfAHue();
         test.rains();
+        test.rainsOfEachHour();
         test.count();
         test.wrongArguments();
         test.lookingChangesNothing();
@@ -111,6 +117,41 @@ public final class LookingTest {
         check.due("bare flags through which it is seen", x.of(7, 4, 6), 9);
     }
 
+    private void noneIsNoError() {
+        ChalkSquares x = new ChalkSquares();
+        check.due("no square is seen through (15, 8)", x.at(15, 8, 2), NONE);
+        check.due("but the flag has a hue", x.at(15, 8, 0), 0);
+        check.due("and it is not touched", x.at(15, 8, 5), 0);
+        check.due("there is no such thing about it", x.at(15, 8, 6), BAD_VALUE);
+        check.due("nor such a flag", x.at(16, 8, 2), NO_SUCH);
+        check.due("the square (1, 4) is blind", x.of(1, 4, 1), NONE);
+        check.due("but has a hue", x.of(1, 4, 0), 0);
+        check.due("there is no such thing about it", x.of(1, 4, 7), BAD_VALUE);
+        check.due("nor such a square", x.of(8, 4, 1), NO_SUCH);
+        x.set(ChalkSquares.EYE, 2);
+        x.set(ChalkSquares.AWAY, 40);
+        check.due("now it is not blind", x.of(0, 4, 1), 0);
+        for (int column = 0; column <= 7; column++) {
+            check.due("the row 7 is", x.of(7, column, 1), NONE);
+        }
+    }
+
+    private void flagsOfAllSquares() {
+        ChalkSquares x = new ChalkSquares();
+        int[] flags = new int[64];
+        for (int flag = 0; flag < 256; flag++) {
+            int square = x.at(flag / 16, flag % 16, 2);
+            if (square != NONE) {
+                flags[square]++;
+            }
+        }
+        for (int square = 0; square < 64; square++) {
+            check.due("flags of the square " + square, x.of(square / 8, square % 8, 2), flags[square]);
+            check.due("bare ones", x.of(square / 8, square % 8, 6), flags[square]);
+            check.due("right, if there are any", x.of(square / 8, square % 8, 3), flags[square] > 0 ? 1 : 0);
+        }
+    }
+
     private void hueOfThePicture() {
         ChalkSquares x = new ChalkSquares();
         x.chalk(1, 9);
@@ -133,6 +174,31 @@ public final class LookingTest {
         x.stroke(10, 9, 1);
         check.due("four, three and two", x.of(7, 4, 1), 7);
         check.due("flags without a hue", x.of(7, 4, 6), 3);
+    }
+
+    private void lowestOfSeveralHues() {
+        // The square (0, 4) is seen through the flags (0, 8) and (0, 9).
+        for (int one = 1; one <= 7; one++) {
+            for (int other = 1; other <= 7; other++) {
+                ChalkSquares x = new ChalkSquares();
+                Scene.stroke(x, 0, 8, one);
+                check.due("0 and " + one, x.of(0, 4, 1), 0);
+                Scene.stroke(x, 0, 9, other);
+                check.due(one + " and " + other, x.of(0, 4, 1), Math.min(one, other));
+            }
+        }
+        ChalkSquares y = new ChalkSquares();
+        int[] hues = {7, 7, 6, 6, 5, 5, 4, 4, 3};
+        for (int i = 0; i < 9; i++) {
+            Scene.stroke(y, 8 + i / 3, 8 + i % 3, hues[i]);
+        }
+        check.due("four hues with two flags each, one with one", y.of(7, 4, 1), 4);
+        y.rub(10, 10);
+        check.due("one is bare", y.of(7, 4, 1), 4);
+        y.rub(10, 9);
+        check.due("two are bare", y.of(7, 4, 1), 0);
+        Scene.stroke(y, 10, 9, 7);
+        check.due("7 has three flags", y.of(7, 4, 1), 7);
     }
 
     private void outlines() {
@@ -184,6 +250,29 @@ public final class LookingTest {
         check.due("the gap is closed", x.squares(4, 2), 129);
     }
 
+    private void edgesAreOutline() {
+        ChalkSquares x = new ChalkSquares();
+        for (int row = 0; row <= 7; row++) {
+            x.row(row, 011111111);
+        }
+        check.due("the first row", x.squares(0, 2), 255);
+        for (int row = 1; row <= 6; row++) {
+            check.due("the row " + row, x.squares(row, 2), 129);
+        }
+        check.due("the last row", x.squares(7, 2), 255);
+        int[] corners = {0, 7};
+        for (int row : corners) {
+            for (int column : corners) {
+                check.due("a corner", x.of(row, column, 4), 1);
+                x.square(row, column, 0);
+                check.due("a corner without a hue", x.of(row, column, 4), 0);
+            }
+        }
+        check.due("beside a corner", x.of(0, 1, 4), 1);
+        check.due("aslant of a corner", x.of(1, 1, 4), 0);
+        check.due("aslant of another", x.of(6, 6, 4), 0);
+    }
+
     // Promise 16
     private void squares() {
         ChalkSquares x = Scene.rowDrawn();
@@ -228,6 +317,26 @@ public final class LookingTest {
         check.due("the first flag and the last one", x.ofHue(7, 3), 9);
     }
 
+    private void coatsOnTheFlagsOfAHue() {
+        ChalkSquares x = new ChalkSquares();
+        x.set(ChalkSquares.COAT, 9);
+        x.chalk(1, 99);
+        x.chalk(7, 99);
+        for (int line = 0; line <= 15; line++) {
+            x.stroke(line, line, line % 2 == 0 ? 1 : 7);
+            x.stroke(15, line, 1);
+            x.stroke(15, line, 1);
+        }
+        check.due("flags of 7", x.ofHue(7, 1), 7);
+        check.due("coats of 7", x.ofHue(7, 3), 63);
+        check.due("flags of 1", x.ofHue(1, 1), 24);
+        check.due("coats of 1", x.ofHue(1, 3), 8 * 9 + 16 * 18);
+        check.due("bare flags", x.ofHue(0, 1), 256 - 31);
+        check.due("no coats of 0", x.ofHue(0, 3), 0);
+        check.due("no chalk of 0", x.ofHue(0, 0), 0);
+        check.due("flags that are not bare", x.count(3), 31);
+    }
+
     // Promise 18
     private void rains() {
         ChalkSquares x = new ChalkSquares();
@@ -245,6 +354,24 @@ public final class LookingTest {
         for (int in : none) {
             check.due("rains(" + in + ")", x.rains(in), BAD_VALUE);
         }
+    }
+
+    private void rainsOfEachHour() {
+        ChalkSquares x = new ChalkSquares();
+        int[] hours = {0, 1, 2, 23, 24, 25, 97, 98, 99};
+        for (int i = 0; i < hours.length; i++) {
+            x.rain(hours[i], 1 + i);
+        }
+        int next = 0;
+        for (int in = 0; in <= 99; in++) {
+            boolean rainy = next < hours.length && hours[next] == in;
+            check.due("rains(" + in + ")", x.rains(in), rainy ? ++next : 0);
+        }
+        for (int n = 0; n < 15; n++) {
+            x.rain(99, 9);
+        }
+        check.due("16 rains in one hour", x.rains(99), 9 + 15 * 9);
+        check.due("24 rains", x.count(1), 24);
     }
 
     // Promise 19
@@ -313,8 +440,22 @@ public final class LookingTest {
     }
 
     private void lookingChangesNothing() {
+        String before = Whole.of(Scene::busy);
+        check.holds("looking changes nothing", before.equals(Whole.of(LookingTest::lookedAt)));
+    }
+
+    private static ChalkSquares lookedAt() {
         ChalkSquares x = Scene.busy();
-        Snapshot before = Snapshot.of(x);
-        check.holds("looking changes nothing", Snapshot.of(x).isSameAs(before));
+        for (int what = -1; what <= 18; what++) {
+            x.at(0, 4, what);
+            x.at(15, 8, what);
+            x.of(0, 4, what);
+            x.of(1, 4, what);
+            x.squares(0, what);
+            x.ofHue(1, what);
+            x.rains(what);
+            x.count(what);
+        }
+        return x;
     }
 }

@@ -40,10 +40,9 @@ public final class RandomRunsTest {
         boolean looksAtAll = run % 2 == 1;
         for (int i = 0; i < (looksAtAll ? CALLS - FLAGS : CALLS); i++) {
             String name = pick();
-            long[] a = arguments(name);
-            int got = callClass(name, a);
-            int want = callReference(name, a);
-            String call = name + java.util.Arrays.toString(a);
+            Call call = new Call(name, arguments(name));
+            int got = call.on(x);
+            int want = call.on(y);
             calls.append(call).append(" = ").append(want).append('\n');
             check.due("run " + run + " call " + i + " " + call, got, want);
             if (got != want) {
@@ -146,82 +145,6 @@ public final class RandomRunsTest {
             case "put": return new long[] {text()};
             case "save": case "restore": return new long[] {within(0, 1)};
             default: return new long[0];
-        }
-    }
-
-    private int callClass(String name, long[] v) {
-        int[] a = new int[4];
-        for (int i = 0; i < v.length; i++) a[i] = (int) v[i];
-        switch (name) {
-            case "set": return x.set(a[0], a[1]);
-            case "square": return x.square(a[0], a[1], a[2]);
-            case "row": return x.row(a[0], a[1]);
-            case "chalk": return x.chalk(a[0], a[1]);
-            case "stroke": return x.stroke(a[0], a[1], a[2]);
-            case "rub": return x.rub(a[0], a[1]);
-            case "draw": return x.draw(a[0], a[1]);
-            case "mend": return x.mend();
-            case "awning": return x.awning(a[0], a[1]);
-            case "rain": return x.rain(a[0], a[1]);
-            case "crowd": return x.crowd(a[0], a[1], a[2], a[3]);
-            case "pass": return x.pass(a[0]);
-            case "at": return x.at(a[0], a[1], a[2]);
-            case "of": return x.of(a[0], a[1], a[2]);
-            case "squares": return x.squares(a[0], a[1]);
-            case "ofHue": return x.ofHue(a[0], a[1]);
-            case "rains": return x.rains(a[0]);
-            case "count": return x.count(a[0]);
-            case "from": return x.from(a[0], a[1], a[2]);
-            case "bestMark": return x.bestMark(a[0]);
-            case "needs": return x.needs(a[0]);
-            case "lastsFor": return x.lastsFor();
-            case "rightIn": return x.rightIn(a[0]);
-            case "bestAwning": return x.bestAwning(a[0], a[1]);
-            case "put": return x.put(v[0]);
-            case "wipe": return x.wipe();
-            case "fault": return x.fault();
-            case "carryOut": return x.carryOut();
-            case "undo": return x.undo();
-            case "save": return x.save(a[0]);
-            default: return x.restore(a[0]);
-        }
-    }
-
-    private int callReference(String name, long[] v) {
-        int[] a = new int[4];
-        for (int i = 0; i < v.length; i++) a[i] = (int) v[i];
-        switch (name) {
-            case "set": return y.set(a[0], a[1]);
-            case "square": return y.square(a[0], a[1], a[2]);
-            case "row": return y.row(a[0], a[1]);
-            case "chalk": return y.chalk(a[0], a[1]);
-            case "stroke": return y.stroke(a[0], a[1], a[2]);
-            case "rub": return y.rub(a[0], a[1]);
-            case "draw": return y.draw(a[0], a[1]);
-            case "mend": return y.mend();
-            case "awning": return y.awning(a[0], a[1]);
-            case "rain": return y.rain(a[0], a[1]);
-            case "crowd": return y.crowd(a[0], a[1], a[2], a[3]);
-            case "pass": return y.pass(a[0]);
-            case "at": return y.at(a[0], a[1], a[2]);
-            case "of": return y.of(a[0], a[1], a[2]);
-            case "squares": return y.squares(a[0], a[1]);
-            case "ofHue": return y.ofHue(a[0], a[1]);
-            case "rains": return y.rains(a[0]);
-            case "count": return y.count(a[0]);
-            case "from": return y.from(a[0], a[1], a[2]);
-            case "bestMark": return y.bestMark(a[0]);
-            case "needs": return y.needs(a[0]);
-            case "lastsFor": return y.lastsFor();
-            case "rightIn": return y.rightIn(a[0]);
-            case "bestAwning": return y.bestAwning(a[0], a[1]);
-            case "put": return y.put(v[0]);
-            case "wipe": return y.wipe();
-            case "fault": return y.fault();
-            case "carryOut": return y.carryOut();
-            case "undo": return y.undo();
-            case "save": return y.save(a[0]);
-            default: return y.restore(a[0]);
         }
     }
 }

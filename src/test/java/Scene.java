@@ -15,13 +15,17 @@ final class Scene {
         return x;
     }
 
-    /** Something of everything. */
+    /** Something of everything, with six changes that can be undone, and all that calls may need. */
     static ChalkSquares busy() {
         ChalkSquares x = rowDrawn();
+        x.save(0);
+        for (int hue = 2; hue <= 7; hue++) {
+            x.chalk(hue, 5);
+        }
         x.square(3, 3, 7);
-        x.chalk(7, 5);
         x.awning(2, 2);
         x.rain(1, 2);
+        x.save(1);
         x.rain(3, 9);
         x.crowd(0, 0, 2, 25);
         x.crowd(1, 5, 0, 7);
@@ -30,7 +34,50 @@ final class Scene {
         return x;
     }
 
-    /** Chalk of the hue enough, and one stroke of it on a flag. */
+    /** As much as there can be: 24 rains, 12 crowds, 80 characters, 27 coats, 999 strokes; but no chalk of the hue 3. */
+    static ChalkSquares full() {
+        ChalkSquares x = new ChalkSquares();
+        x.chalk(1, 999);
+        x.set(ChalkSquares.COAT, 9);
+        for (int n = 0; n < 3; n++) {
+            x.stroke(0, 4, 1);
+        }
+        x.chalk(1, 3);
+        for (int n = 0; n < 24; n++) {
+            x.rain(4 * n, 1 + n % 9);
+        }
+        for (int n = 0; n < 12; n++) {
+            x.crowd(n % 2, n, 2 * n, 1 + 8 * n);
+        }
+        put(x, "d;d;d;d;d;d;d;d;d;d;d;d;d;d;d;d;d;d;d;d;d;d;d;d;d;d;d;d;d;d;d;d;d;d;d;d;d;d;h1;d");
+        return x;
+    }
+
+    /** An object with so many hours so far, up to 9999. */
+    static ChalkSquares atHour(int hours) {
+        ChalkSquares x = new ChalkSquares();
+        int left = hours;
+        while (left > 0) {
+            int more = Math.min(left, 48);
+            x.pass(more);
+            left -= more;
+        }
+        return x;
+    }
+
+    static ChalkSquares atLastHour() {
+        return atHour(9999);
+    }
+
+    static ChalkSquares allAwnings() {
+        ChalkSquares x = new ChalkSquares();
+        for (int flag = 0; flag < 256; flag++) {
+            x.awning(flag / 16, flag % 16);
+        }
+        return x;
+    }
+
+    /** One stroke of the hue comes, and is put on a flag. */
     static void stroke(ChalkSquares x, int row, int column, int hue) {
         x.chalk(hue, 1);
         x.stroke(row, column, hue);
@@ -42,6 +89,12 @@ final class Scene {
             number = number << 8 | text.charAt(i);
         }
         return number;
+    }
+
+    static ChalkSquares withText(String text) {
+        ChalkSquares x = new ChalkSquares();
+        put(x, text);
+        return x;
     }
 
     /** Returns what the last put() answered. */

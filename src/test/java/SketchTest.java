@@ -14,7 +14,7 @@ public final class SketchTest {
         test.setIsSeen();
         test.square();
         test.row();
-        test.refusalsChangeNothing();
+        test.rowAndSquareAreOne();
         test.check.end();
     }
 
@@ -105,16 +105,20 @@ public final class SketchTest {
         }
     }
 
-    private void refusalsChangeNothing() {
-        ChalkSquares x = Scene.busy();
-        Snapshot before = Snapshot.of(x);
-        x.set(0, 41);
-        x.set(6, 1);
-        x.square(8, 0, 1);
-        x.square(0, 8, 1);
-        x.square(0, 0, 8);
-        x.row(8, 0);
-        x.row(0, -1);
-        check.holds("refused changes change nothing", Snapshot.of(x).isSameAs(before));
+    private void rowAndSquareAreOne() {
+        ChalkSquares x = new ChalkSquares();
+        for (int row = 0; row <= 7; row++) {
+            for (int column = 0; column <= 7; column++) {
+                check.due("square", x.square(row, column, (row + column) % 8), 0);
+            }
+        }
+        for (int row = 0; row <= 7; row++) {
+            int hues = 0;
+            for (int column = 0; column <= 7; column++) {
+                hues += (row + column) % 8 << 3 * column;
+            }
+            check.due("the row " + row, x.row(row, 0), hues);
+            check.due("squares that are left", x.count(6), 49 - 7 * row);
+        }
     }
 }

@@ -9,19 +9,23 @@ public final class StrokesTest {
     public static void main(String[] args) {
         StrokesTest test = new StrokesTest();
         test.chalk();
+        test.chalkThatIsThrownAway();
         test.stroke();
         test.coats();
+        test.mostCoats();
         test.rub();
+        test.rubLeavesTheRest();
         test.draw();
         test.drawRubs();
         test.drawsThoseRowsAlone();
         test.drawUsesChalkUp();
+        test.drawWithoutChalk();
         test.drawErrors();
         test.mend();
         test.mendAllOrNone();
+        test.mendRubs();
         test.mendFromTheMark();
         test.mendLooksAtThePicture();
-        test.refusalsChangeNothing();
         test.check.end();
     }
 
@@ -46,6 +50,21 @@ public final class StrokesTest {
             check.due("no " + n + " strokes", x.chalk(1, n), BAD_VALUE);
         }
         check.due("refused chalk", x.ofHue(1, 0), 11);
+    }
+
+    private void chalkThatIsThrownAway() {
+        ChalkSquares x = new ChalkSquares();
+        check.due("998", x.chalk(1, 998), 998);
+        check.due("999", x.chalk(1, 1), 999);
+        check.due("one is thrown away", x.chalk(1, 1), 999);
+        check.due("a change all the same", x.count(17), 3);
+        x.stroke(0, 0, 1);
+        check.due("998 are left", x.ofHue(1, 0), 998);
+        check.due("all but one are thrown away", x.chalk(1, 999), 999);
+        check.due("1 and 998", x.chalk(2, 1), 1);
+        check.due("1 and 998", x.chalk(2, 998), 999);
+        check.due("2 and 998", x.chalk(3, 2), 2);
+        check.due("2 and 998", x.chalk(3, 998), 999);
     }
 
     // Promise 6
@@ -95,6 +114,23 @@ public final class StrokesTest {
         check.due("and 1", x.stroke(4, 4, 1), 10);
     }
 
+    private void mostCoats() {
+        for (int coat = 1; coat <= 9; coat++) {
+            ChalkSquares x = new ChalkSquares();
+            x.set(ChalkSquares.COAT, coat);
+            x.chalk(1, 99);
+            int coats = 0;
+            for (int n = 0; n < 30; n++) {
+                coats += coat;
+                check.due("coats of " + coat, x.stroke(15, 0, 1), coats > 27 ? 27 : coats);
+            }
+            check.due("each took chalk", x.ofHue(1, 0), 69);
+            check.due("each is counted", x.count(8), 30);
+            x.set(ChalkSquares.COAT, 9);
+            check.due("27 and 9", x.stroke(15, 0, 1), 27);
+        }
+    }
+
     // Promise 7
     private void rub() {
         ChalkSquares x = new ChalkSquares();
@@ -117,6 +153,19 @@ public final class StrokesTest {
             check.due("no column " + n, x.rub(0, n), NO_SUCH);
         }
         check.due("refused rubbings", x.count(9), 4);
+    }
+
+    private void rubLeavesTheRest() {
+        ChalkSquares x = new ChalkSquares();
+        x.awning(3, 4);
+        x.crowd(0, 3, 0, 7);
+        x.pass(1);
+        Scene.stroke(x, 3, 4, 6);
+        check.due("rub(3, 4)", x.rub(3, 4), 3);
+        check.due("the awning stays", x.at(3, 4, 3), 1);
+        check.due("feet stay", x.at(3, 4, 4), 7);
+        check.due("chalk does not come back", x.ofHue(6, 0), 0);
+        check.due("the next stroke begins anew", x.chalk(6, 1) + x.stroke(3, 4, 6), 4);
     }
 
     // Promise 8
@@ -193,6 +242,20 @@ public final class StrokesTest {
         check.due("needs the rest", x.needs(1), 6);
     }
 
+    private void drawWithoutChalk() {
+        ChalkSquares x = new ChalkSquares();
+        x.square(0, 0, 5);
+        Scene.stroke(x, 0, 4, 2);
+        check.due("no chalk of the hue", x.draw(0, 15), 0);
+        check.due("the hue stays", x.at(0, 4, 0), 2);
+        check.due("the coats stay", x.at(0, 4, 1), 3);
+        check.due("no rubbing", x.count(9), 0);
+        check.due("a change all the same", x.count(17), 4);
+        x.square(0, 0, 0);
+        check.due("rubbing takes no chalk", x.draw(0, 0), 1);
+        check.due("bare", x.at(0, 4, 1), 0);
+    }
+
     private void drawErrors() {
         ChalkSquares x = Scene.rowDrawn();
         int[] none = {-1, 16, LOWEST, HIGHEST};
@@ -250,6 +313,21 @@ public final class StrokesTest {
         check.due("strokes so far", x.count(8), 3);
     }
 
+    private void mendRubs() {
+        ChalkSquares x = new ChalkSquares();
+        x.chalk(1, 3);
+        x.stroke(0, 8, 1);
+        x.stroke(0, 9, 1);
+        x.stroke(0, 5, 1);
+        x.square(0, 5, 1);
+        check.due("no chalk is left", x.ofHue(1, 0), 0);
+        check.due("two squares are rubbed, one has no chalk", x.mend(), 2);
+        check.due("three flags", x.count(9), 3);
+        check.due("all are bare", x.count(3), 0);
+        check.due("no strokes more", x.count(8), 3);
+        check.due("now only one is not right", x.count(4), 55);
+    }
+
     private void mendFromTheMark() {
         ChalkSquares x = new ChalkSquares();
         x.set(ChalkSquares.MARK, 4);
@@ -275,19 +353,5 @@ public final class StrokesTest {
         check.due("one flag is drawn, with the last stroke", x.count(8), 4);
         check.due("the other has its coats", x.at(0, 8, 1), 3);
         check.due("both have the hue", x.of(0, 4, 6), 2);
-    }
-
-    private void refusalsChangeNothing() {
-        ChalkSquares x = Scene.busy();
-        Snapshot before = Snapshot.of(x);
-        x.chalk(0, 5);
-        x.chalk(1, 1000);
-        x.stroke(16, 0, 1);
-        x.stroke(0, 0, 8);
-        x.stroke(0, 5, 6);
-        x.rub(0, 16);
-        x.draw(0, 16);
-        x.draw(3, 2);
-        check.holds("refused changes change nothing", Snapshot.of(x).isSameAs(before));
     }
 }

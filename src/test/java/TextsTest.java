@@ -9,24 +9,23 @@ public final class TextsTest {
         TextsTest test = new TextsTest();
         test.put();
         test.putWrong();
+        test.codesAtEachPlace();
+        test.nothingAtEachPlace();
         test.putTooMany();
+        test.putUpToTheEnd();
         test.wipe();
         test.fault();
         test.faultOfNumbers();
         test.carryOut();
         test.carryOutDraw();
         test.carryOutUpToAnError();
+        test.firstAndLastOrderRefused();
+        test.changesOfTextsAreKeptSix();
         test.carryOutErrors();
         test.carryOutBadText();
         test.carryOutLong();
         test.ordersThatAreTooMany();
         test.check.end();
-    }
-
-    private static ChalkSquares withText(String text) {
-        ChalkSquares x = new ChalkSquares();
-        Scene.put(x, text);
-        return x;
     }
 
     // Promise 26
@@ -44,7 +43,7 @@ public final class TextsTest {
     }
 
     private void putWrong() {
-        ChalkSquares x = withText("d");
+        ChalkSquares x = Scene.withText("d");
         check.due("no character", x.put(0), BAD_VALUE);
         check.due("32", x.put(32), BAD_VALUE);
         check.due("127", x.put(127), BAD_VALUE);
@@ -62,6 +61,30 @@ public final class TextsTest {
         check.due("a first character of 255", x.put(0xFF64646464646464L), BAD_VALUE);
         check.due("the pad is as it was", x.count(16), 1);
         check.due("d alone", x.fault(), NONE);
+    }
+
+    private void codesAtEachPlace() {
+        for (int place = 0; place < 8; place++) {
+            long others = 0x6464646464646464L & ~(255L << 8 * place);
+            for (int code = 1; code <= 255; code++) {
+                boolean stands = code >= 33 && code <= 126;
+                ChalkSquares x = new ChalkSquares();
+                check.due(code + " at " + place, x.put(others | (long) code << 8 * place), stands ? 8 : BAD_VALUE);
+                check.due("the length", x.count(16), stands ? 8 : 0);
+            }
+        }
+    }
+
+    private void nothingAtEachPlace() {
+        for (int place = 0; place < 8; place++) {
+            long below = (1L << 8 * place) - 1;
+            long characters = 0x6464646464646464L & below;
+            check.due(place + " characters", new ChalkSquares().put(characters), place == 0 ? BAD_VALUE : place);
+            for (int bit = 8 * place + 8; bit < 64; bit++) {
+                check.due(place + " characters, nothing, and the bit " + bit,
+                    new ChalkSquares().put(characters | 1L << bit), BAD_VALUE);
+            }
+        }
     }
 
     private void putTooMany() {
@@ -82,9 +105,26 @@ public final class TextsTest {
         check.due("there is room again", x.put('d'), 1);
     }
 
+    private void putUpToTheEnd() {
+        for (int left = 0; left <= 8; left++) {
+            for (int more = 1; more <= 8; more++) {
+                ChalkSquares x = new ChalkSquares();
+                for (int n = 0; n < 9; n++) {
+                    x.put(Scene.characters("dddddddd"));
+                }
+                if (left < 8) {
+                    x.put(Scene.characters("dddddddd".substring(left)));
+                }
+                int due = more <= left ? 80 - left + more : TOO_MANY;
+                check.due(more + " where " + left + " are left", x.put(Scene.characters("xxxxxxxx".substring(8 - more))), due);
+                check.due("the length", x.count(16), due == TOO_MANY ? 80 - left : due);
+            }
+        }
+    }
+
     // Promise 27
     private void wipe() {
-        ChalkSquares x = withText("h1;d");
+        ChalkSquares x = Scene.withText("h1;d");
         x.chalk(1, 1);
         check.due("wipe()", x.wipe(), 4);
         check.due("an empty pad", x.wipe(), 0);
@@ -100,13 +140,13 @@ public final class TextsTest {
         String[] good = {"d", "h0", "h1", "h999", "r0=0", "r999=9", "k0*0", "k9*999", "f-0@0*0", "f|999@999*999",
             "d;d", "h1;d;r1=1;k1*1;f|1@1*1;d"};
         for (String text : good) {
-            check.due(text, withText(text).fault(), NONE);
+            check.due(text, Scene.withText(text).fault(), NONE);
         }
         check.due("the empty text", new ChalkSquares().fault(), 0);
         String[] short_ = {"h", "r", "r1", "r1=", "k", "k1", "k1*", "f", "f-", "f-1", "f-1@", "f-1@1", "f|1@1*", "d;",
             "d;h", "f-12@", "h9;", "k3*4;f|"};
         for (String text : short_) {
-            check.due(text + " ends too early", withText(text).fault(), text.length());
+            check.due(text + " ends too early", Scene.withText(text).fault(), text.length());
         }
         String[] bad = {"x", "1", ";", "D", "dd", "d1", "hh", "h-1", "r=1", "r1*1", "r1=x", "r1=11", "k*1", "k11*1", "k1=1",
             "k1*x", "f1@1*1", "f-@1*1", "f-1*1", "f-1@*1", "f-1@1@1", "f-1@1*x", "f--", "d;;d", "d;x", "h1,d", "d;h1d",
@@ -115,29 +155,29 @@ public final class TextsTest {
             3, 1, 2, 3, 4, 5, 6, 2, 2, 2, 2, 4,
             9};
         for (int i = 0; i < bad.length; i++) {
-            check.due(bad[i], withText(bad[i]).fault(), faults[i]);
+            check.due(bad[i], Scene.withText(bad[i]).fault(), faults[i]);
         }
     }
 
     private void faultOfNumbers() {
-        check.due("h00", withText("h00").fault(), 2);
-        check.due("h01", withText("h01").fault(), 2);
-        check.due("r05=1", withText("r05=1").fault(), 2);
-        check.due("h1000", withText("h1000").fault(), 4);
-        check.due("h1000x", withText("h1000x").fault(), 4);
-        check.due("h9999", withText("h9999").fault(), 4);
-        check.due("k1*1000", withText("k1*1000").fault(), 6);
-        check.due("k1*007", withText("k1*007").fault(), 4);
-        check.due("f-1000@1*1", withText("f-1000@1*1").fault(), 5);
-        check.due("f-1@0000*1", withText("f-1@0000*1").fault(), 5);
-        check.due("f-1@1*1234", withText("f-1@1*1234").fault(), 9);
-        check.due("h100", withText("h100").fault(), NONE);
-        check.due("h10;d", withText("h10;d").fault(), NONE);
+        check.due("h00", Scene.withText("h00").fault(), 2);
+        check.due("h01", Scene.withText("h01").fault(), 2);
+        check.due("r05=1", Scene.withText("r05=1").fault(), 2);
+        check.due("h1000", Scene.withText("h1000").fault(), 4);
+        check.due("h1000x", Scene.withText("h1000x").fault(), 4);
+        check.due("h9999", Scene.withText("h9999").fault(), 4);
+        check.due("k1*1000", Scene.withText("k1*1000").fault(), 6);
+        check.due("k1*007", Scene.withText("k1*007").fault(), 4);
+        check.due("f-1000@1*1", Scene.withText("f-1000@1*1").fault(), 5);
+        check.due("f-1@0000*1", Scene.withText("f-1@0000*1").fault(), 5);
+        check.due("f-1@1*1234", Scene.withText("f-1@1*1234").fault(), 9);
+        check.due("h100", Scene.withText("h100").fault(), NONE);
+        check.due("h10;d", Scene.withText("h10;d").fault(), NONE);
     }
 
     // Promise 29
     private void carryOut() {
-        ChalkSquares x = withText("r3=7;r99=9;k7*500;k7*500;f-15@23*99;f|0@0*12;h1");
+        ChalkSquares x = Scene.withText("r3=7;r99=9;k7*500;k7*500;f-15@23*99;f|0@0*12;h1");
         check.due("all of them", x.carryOut(), 7);
         check.due("the pad is empty", x.count(16), 0);
         check.due("rain in 3", x.rains(2), 7);
@@ -176,7 +216,7 @@ public final class TextsTest {
     }
 
     private void carryOutUpToAnError() {
-        ChalkSquares x = withText("k1*9;h0;k2*9");
+        ChalkSquares x = Scene.withText("k1*9;h0;k2*9");
         check.due("one before the error", x.carryOut(), 1);
         check.due("is carried out", x.ofHue(1, 0), 9);
         check.due("those behind it are not", x.ofHue(2, 0), 0);
@@ -190,17 +230,45 @@ public final class TextsTest {
         check.due("the chalk is there yet", x.ofHue(1, 0), 9);
     }
 
+    private void firstAndLastOrderRefused() {
+        ChalkSquares x = Scene.withText("h0;k1*1");
+        check.due("the first order", x.carryOut(), 0);
+        check.due("no chalk", x.ofHue(1, 0), 0);
+        check.due("a change", x.count(17), 1);
+        Scene.put(x, "k1*1;k2*1;k8*1");
+        check.due("the last order", x.carryOut(), 2);
+        check.due("those before it stand", x.ofHue(1, 0) + x.ofHue(2, 0), 2);
+        check.due("one change", x.count(17), 2);
+        check.due("undone together", x.undo(), 1);
+        check.due("no chalk", x.ofHue(1, 0) + x.ofHue(2, 0), 0);
+        check.due("the pad does not come back", x.count(16), 0);
+    }
+
+    private void changesOfTextsAreKeptSix() {
+        ChalkSquares x = new ChalkSquares();
+        for (int n = 1; n <= 9; n++) {
+            Scene.put(x, "k1*1;k1*1;k1*1");
+            check.due("three orders", x.carryOut(), 3);
+            check.due("changes", x.count(17), Math.min(n, 6));
+        }
+        for (int left = 5; left >= 0; left--) {
+            check.due("undo", x.undo(), left);
+            check.due("three strokes less", x.ofHue(1, 0), 9 + 3 * left);
+        }
+        check.due("no more", x.undo(), ChalkSquares.NOT_POSSIBLE);
+    }
+
     private void carryOutErrors() {
         String[] refused = {"r100=1", "r0=0", "k0*1", "k8*1", "k9*1", "k1*0", "f-16@0*1", "f|0@24*1", "f-0@0*0",
             "f-0@0*100", "h0", "h49", "h999"};
         for (String order : refused) {
-            ChalkSquares x = withText(order);
+            ChalkSquares x = Scene.withText(order);
             check.due(order, x.carryOut(), 0);
             check.due(order + " is one change", x.count(17), 1);
         }
         String[] carried = {"r99=9", "r0=1", "k1*1", "k7*999", "f-15@0*1", "f|0@23*99", "h1", "h48", "d"};
         for (String order : carried) {
-            check.due(order, withText(order).carryOut(), 1);
+            check.due(order, Scene.withText(order).carryOut(), 1);
         }
     }
 
@@ -209,12 +277,17 @@ public final class TextsTest {
         x.wipe();
         check.due("the empty pad", x.carryOut(), BAD_TEXT);
         Scene.put(x, "d;k1*9;h");
-        Snapshot before = Snapshot.of(x);
+        int strokes = x.ofHue(1, 0);
         check.due("a text that ends too early", x.carryOut(), BAD_TEXT);
-        check.holds("changes nothing", Snapshot.of(x).isSameAs(before));
+        check.due("no order is carried out", x.ofHue(1, 0), strokes);
+        check.due("no change", x.count(17), 6);
         check.due("the pad stays", x.count(16), 8);
         Scene.put(x, "1");
         check.due("and can be ended", x.carryOut(), 3);
+        check.due("nine strokes came", x.ofHue(1, 0), Math.min(strokes + 9, 999));
+        Scene.put(x, "d;x");
+        check.due("a wrong character", x.carryOut(), BAD_TEXT);
+        check.due("the pad stays", x.fault(), 2);
     }
 
     private void carryOutLong() {
@@ -222,11 +295,11 @@ public final class TextsTest {
         for (int n = 1; n < 40; n++) {
             text.append(";d");
         }
-        ChalkSquares x = withText(text.toString());
+        ChalkSquares x = Scene.withText(text.toString());
         check.due("79 characters", x.count(16), 79);
         check.due("40 orders", x.carryOut(), 40);
         check.due("one change", x.count(17), 1);
-        ChalkSquares y = withText("h1;k1*999;h1;k1*999;h1;k1*999;h1;k1*999;h1;k1*999;h1;k1*999;h1;k1*999;h1;k1*9;d;");
+        ChalkSquares y = Scene.withText("h1;k1*999;h1;k1*999;h1;k1*999;h1;k1*999;h1;k1*999;h1;k1*999;h1;k1*999;h1;k1*9;d;");
         check.due("80 characters", y.count(16), 80);
         check.due("a text that ends behind ;", y.carryOut(), BAD_TEXT);
         check.due("the fault is the length", y.fault(), 80);

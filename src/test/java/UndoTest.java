@@ -9,16 +9,21 @@ public final class UndoTest {
         UndoTest test = new UndoTest();
         test.undoEachChange();
         test.sixStates();
+        test.zeroToSixStatesAndASeventh();
         test.oldestIsDropped();
         test.changesThatDifferInNothing();
+        test.theSameOnceMore();
         test.whatIsNoChange();
         test.refusedChanges();
+        test.refusedCallsDropNoState();
         test.undoThenChange();
         test.undoLeavesPadAndSlots();
         test.save();
         test.restore();
+        test.slotsInWhichNothingWasSaved();
         test.restoreEverything();
         test.savedStatesStand();
+        test.saveChangesTheSlotAlone();
         test.wrongSlots();
         test.check.end();
     }
@@ -45,18 +50,37 @@ public final class UndoTest {
 
     // Promise 30
     private void undoEachChange() {
+        String before = Whole.stateOf(UndoTest::begun);
         for (int kind = 0; kind < CHANGES; kind++) {
-            ChalkSquares x = Scene.busy();
-            x.save(1);
-            x.rub(0, 6);
-            x.set(ChalkSquares.MARK, 9);
+            int which = kind;
+            ChalkSquares x = begun();
             check.due("six changes can be undone", x.count(17), 6);
-            Snapshot before = Snapshot.of(x);
             check.holds("change " + kind, change(x, kind) >= 0);
-            check.holds("change " + kind + " is seen", kind == 8 || !Snapshot.of(x).isSameStateAs(before));
+            check.due("six changes at most", x.count(17), 6);
             check.due("undo", x.undo(), 5);
-            check.holds("change " + kind + " is undone", Snapshot.of(x).isSameStateAs(before));
+            check.holds("change " + kind + " is seen", kind == 8 || !before.equals(Whole.stateOf(() -> changed(which))));
+            check.holds("change " + kind + " is undone", before.equals(Whole.stateOf(() -> undone(which))));
         }
+    }
+
+    /** An object in which each change but mend() changes something. */
+    private static ChalkSquares begun() {
+        ChalkSquares x = Scene.busy();
+        x.rub(0, 6);
+        x.set(ChalkSquares.MARK, 9);
+        return x;
+    }
+
+    private static ChalkSquares changed(int kind) {
+        ChalkSquares x = begun();
+        change(x, kind);
+        return x;
+    }
+
+    private static ChalkSquares undone(int kind) {
+        ChalkSquares x = changed(kind);
+        x.undo();
+        return x;
     }
 
     private void sixStates() {
@@ -72,6 +96,25 @@ public final class UndoTest {
         }
         check.due("nothing to undo", x.undo(), NOT_POSSIBLE);
         check.due("the first state", x.of(0, 0, 0), 0);
+    }
+
+    private void zeroToSixStatesAndASeventh() {
+        for (int changes = 0; changes <= 8; changes++) {
+            ChalkSquares x = new ChalkSquares();
+            for (int n = 1; n <= changes; n++) {
+                x.chalk(3, 1);
+            }
+            int kept = Math.min(changes, 6);
+            check.due("changes that can be undone of " + changes, x.count(17), kept);
+            for (int left = kept - 1; left >= 0; left--) {
+                check.due("undo", x.undo(), left);
+                check.due("strokes", x.ofHue(3, 0), changes - kept + left);
+            }
+            check.due("nothing more", x.undo(), NOT_POSSIBLE);
+            check.due("nor then", x.undo(), NOT_POSSIBLE);
+            check.due("strokes", x.ofHue(3, 0), changes - kept);
+            check.due("none can be undone", x.count(17), 0);
+        }
     }
 
     private void oldestIsDropped() {
@@ -99,6 +142,30 @@ public final class UndoTest {
         check.due("nothing to draw", x.count(17), 4);
         x.mend();
         check.due("nothing to mend", x.count(17), 5);
+    }
+
+    private void theSameOnceMore() {
+        ChalkSquares x = new ChalkSquares();
+        x.chalk(1, 999);
+        x.chalk(1, 999);
+        check.due("chalk that is thrown away", x.count(17), 2);
+        x.save(0);
+        x.restore(0);
+        check.due("restore of the same", x.count(17), 3);
+        x.rub(5, 5);
+        check.due("a bare flag is rubbed", x.count(17), 4);
+        x.put('d');
+        x.carryOut();
+        check.due("a text that draws nothing", x.count(17), 5);
+        x.undo();
+        x.undo();
+        check.due("the rubbing is undone", x.count(9), 0);
+        x.undo();
+        check.due("the chalk is there", x.ofHue(1, 0), 999);
+        x.undo();
+        check.due("as it was before the second one", x.ofHue(1, 0), 999);
+        x.undo();
+        check.due("and not before the first", x.ofHue(1, 0), 0);
     }
 
     private void whatIsNoChange() {
@@ -145,6 +212,27 @@ public final class UndoTest {
         check.due("one change", x.count(17), 1);
         check.due("undo", x.undo(), 0);
         check.due("the chalk is undone", x.ofHue(1, 0), 0);
+    }
+
+    private void refusedCallsDropNoState() {
+        ChalkSquares x = new ChalkSquares();
+        for (int n = 1; n <= 7; n++) {
+            x.chalk(1, 1);
+        }
+        for (int n = 0; n < 20; n++) {
+            x.chalk(8, 1);
+            x.stroke(0, 0, 2);
+            x.pass(49);
+            x.carryOut();
+            x.restore(0);
+        }
+        check.due("six can be undone", x.count(17), 6);
+        for (int left = 5; left >= 0; left--) {
+            x.set(6, 0);
+            check.due("undo", x.undo(), left);
+            check.due("strokes", x.ofHue(1, 0), 1 + left);
+        }
+        check.due("nothing more", x.undo(), NOT_POSSIBLE);
     }
 
     private void undoThenChange() {
@@ -211,15 +299,33 @@ public final class UndoTest {
         check.due("the history went on", x.count(9), 0);
     }
 
+    private void slotsInWhichNothingWasSaved() {
+        ChalkSquares x = new ChalkSquares();
+        check.due("restore(0)", x.restore(0), NOT_POSSIBLE);
+        check.due("restore(1)", x.restore(1), NOT_POSSIBLE);
+        check.due("save(1)", x.save(1), 0);
+        check.due("restore(0)", x.restore(0), NOT_POSSIBLE);
+        check.due("restore(1)", x.restore(1), 0);
+        x.undo();
+        check.due("undo does not take the slot away", x.restore(1), 0);
+        check.due("nor fill the other", x.restore(0), NOT_POSSIBLE);
+        check.due("save(0)", x.save(0), 0);
+        check.due("restore(0)", x.restore(0), 0);
+    }
+
     private void restoreEverything() {
+        String before = Whole.stateOf(Scene::busy);
+        check.holds("everything is restored", before.equals(Whole.stateOf(UndoTest::restored)));
+    }
+
+    private static ChalkSquares restored() {
         ChalkSquares x = Scene.busy();
-        Snapshot before = Snapshot.of(x);
         x.save(1);
         for (int kind = 0; kind < CHANGES - 1; kind++) {
             change(x, kind);
         }
         x.restore(1);
-        check.holds("everything is restored", Snapshot.of(x).isSameStateAs(before));
+        return x;
     }
 
     private void savedStatesStand() {
@@ -237,14 +343,32 @@ public final class UndoTest {
         check.due("strokes", x.count(8), 0);
     }
 
+    private void saveChangesTheSlotAlone() {
+        check.holds("the state stays", Whole.stateOf(Scene::busy).equals(Whole.stateOf(UndoTest::saved)));
+        ChalkSquares x = saved();
+        check.due("changes", x.count(17), 6);
+        check.due("the pad", x.count(16), 4);
+        check.due("undo", x.undo(), 5);
+        check.due("the state that was saved", x.restore(0), 9);
+        check.due("has its hour", x.count(0), 1);
+        check.due("the other slot has its own", x.restore(1), 9);
+        check.due("an hour before", x.count(0), 0);
+        check.due("the pad is as it was", x.count(16), 4);
+    }
+
+    private static ChalkSquares saved() {
+        ChalkSquares x = Scene.busy();
+        x.save(0);
+        return x;
+    }
+
     private void wrongSlots() {
         ChalkSquares x = Scene.busy();
-        Snapshot before = Snapshot.of(x);
         int[] none = {-1, 2, Integer.MIN_VALUE, Integer.MAX_VALUE};
         for (int slot : none) {
             check.due("save(" + slot + ")", x.save(slot), BAD_VALUE);
             check.due("restore(" + slot + ")", x.restore(slot), BAD_VALUE);
         }
-        check.holds("refused changes change nothing", Snapshot.of(x).isSameAs(before));
+        check.due("the changes are as they were", x.count(17), 6);
     }
 }

@@ -8,16 +8,24 @@ public final class WhatIfTest {
     public static void main(String[] args) {
         WhatIfTest test = new WhatIfTest();
         test.from();
+        test.fromIsAsIfSet();
         test.bestMark();
+        test.bestMarkIsTheBest();
+        test.bestMarkOfAsGoodOnes();
         test.needs();
+        test.needsIsWhatDrawTakes();
         test.lastsFor();
+        test.lastsForOneHour();
         test.lastsForTwoHundredHours();
         test.lastsThoughMoreAreRightFirst();
         test.rightIn();
+        test.rightInTwoDays();
         test.bestAwning();
         test.bestAwningOfSeveral();
         test.bestAwningAtTheEdges();
         test.bestAwningByHours();
+        test.bestAwningForTwelveHours();
+        test.bestAwningIsTheBest();
         test.bestAwningWithCrowds();
         test.allAwnings();
         test.boundOfHoursDoesNotMatter();
@@ -50,6 +58,24 @@ public final class WhatIfTest {
         check.due("away 0", y.from(14, 0, 8), BAD_VALUE);
         check.due("away 41", y.from(14, 41, 8), BAD_VALUE);
         check.due("mark 16", y.from(14, 8, 16), BAD_VALUE);
+    }
+
+    private void fromIsAsIfSet() {
+        int[] eyes = {2, 3, 14, 39, 40};
+        int[] aways = {1, 2, 8, 39, 40};
+        int[] marks = {0, 1, 7, 8, 14, 15};
+        for (int eye : eyes) {
+            for (int away : aways) {
+                for (int mark : marks) {
+                    ChalkSquares x = Scene.busy();
+                    int right = x.from(eye, away, mark);
+                    x.set(ChalkSquares.EYE, eye);
+                    x.set(ChalkSquares.AWAY, away);
+                    x.set(ChalkSquares.MARK, mark);
+                    check.due("from(" + eye + ", " + away + ", " + mark + ")", right, x.count(4));
+                }
+            }
+        }
     }
 
     // Promise 21
@@ -90,6 +116,40 @@ public final class WhatIfTest {
         }
     }
 
+    private void bestMarkIsTheBest() {
+        for (int mark = 0; mark <= 15; mark++) {
+            ChalkSquares x = new ChalkSquares();
+            x.set(ChalkSquares.MARK, mark);
+            for (int row = 0; row <= 7; row++) {
+                x.row(row, 043215671 + row);
+            }
+            for (int hue = 1; hue <= 7; hue++) {
+                x.chalk(hue, 99);
+            }
+            x.draw(0, 15);
+            int best = 0;
+            for (int other = 0; other <= 15; other++) {
+                best = x.from(14, 8, other) > x.from(14, 8, best) ? other : best;
+            }
+            check.due("the best mark of what was drawn from " + mark, x.bestMark(0), best);
+            check.due("what is right from there", x.bestMark(1), x.from(14, 8, best));
+        }
+    }
+
+    private void bestMarkOfAsGoodOnes() {
+        ChalkSquares x = new ChalkSquares();
+        x.set(ChalkSquares.EYE, 40);
+        x.set(ChalkSquares.AWAY, 1);
+        check.due("no square is right from anywhere", x.bestMark(1), 0);
+        check.due("so the lowest one", x.bestMark(0), 0);
+        ChalkSquares y = new ChalkSquares();
+        for (int row = 0; row <= 7; row++) {
+            y.row(row, 011111111);
+        }
+        check.due("nothing is drawn", y.bestMark(1), 0);
+        check.due("so the lowest one", y.bestMark(0), 0);
+    }
+
     // Promise 22
     private void needs() {
         ChalkSquares x = new ChalkSquares();
@@ -113,6 +173,21 @@ public final class WhatIfTest {
         }
     }
 
+    private void needsIsWhatDrawTakes() {
+        for (int hue = 1; hue <= 7; hue++) {
+            ChalkSquares x = Scene.busy();
+            for (int row = 0; row <= 7; row++) {
+                x.row(row, 076543210 >> 3 * (row % 3));
+            }
+            int needed = x.needs(hue);
+            x.chalk(hue, 900);
+            int before = x.ofHue(hue, 0);
+            x.draw(0, 15);
+            check.due("strokes of " + hue, before - x.ofHue(hue, 0), needed);
+            check.due("none is needed then", x.needs(hue), 0);
+        }
+    }
+
     // Promise 23
     private void lastsFor() {
         ChalkSquares x = Scene.rowDrawn();
@@ -131,6 +206,18 @@ public final class WhatIfTest {
         Scene.stroke(y, 15, 15, 1);
         y.rain(0, 9);
         check.due("a flag that shows nothing does not matter", y.lastsFor(), NONE);
+    }
+
+    private void lastsForOneHour() {
+        ChalkSquares x = Scene.rowDrawn();
+        x.rain(0, 9);
+        check.due("rain in this hour", x.lastsFor(), 1);
+        x.pass(1);
+        check.due("it is over, and fewer can not be right", x.lastsFor(), NONE);
+        check.due("all are bare", x.count(3), 0);
+        x.row(0, 0);
+        check.due("all that are not blind are right", x.count(4), 56);
+        check.due("and stay so", x.lastsFor(), NONE);
     }
 
     private void lastsForTwoHundredHours() {
@@ -179,6 +266,25 @@ public final class WhatIfTest {
         for (int hours : none) {
             check.due("rightIn(" + hours + ")", x.rightIn(hours), BAD_VALUE);
         }
+    }
+
+    private void rightInTwoDays() {
+        ChalkSquares x = Scene.rowDrawn();
+        x.crowd(0, 0, 23, 15);
+        check.due("3 coats less 1", x.rightIn(24), 56);
+        check.due("behind 47 hours", x.rightIn(47), 56);
+        check.due("behind 48 hours 2 less 2", x.rightIn(48), 48);
+        check.due("the first time", x.lastsFor(), 48);
+        check.due("coats now", x.at(0, 4, 1), 3);
+        check.due("feet now", x.at(0, 4, 4), 0);
+        x.pass(1);
+        check.due("behind 46 hours", x.rightIn(46), 56);
+        check.due("behind 47 hours", x.rightIn(47), 48);
+        x.rain(46, 2);
+        check.due("2 of rain are 3 of water, but in the same hour", x.rightIn(46), 56);
+        x.rain(45, 2);
+        check.due("an hour before", x.rightIn(46), 48);
+        check.due("not two", x.rightIn(45), 56);
     }
 
     // Promise 25
@@ -255,6 +361,65 @@ public final class WhatIfTest {
         check.due("too late for the first rain: 27 - 27", x.bestAwning(8, 1), 0);
     }
 
+    private void bestAwningForTwelveHours() {
+        ChalkSquares x = new ChalkSquares();
+        Scene.stroke(x, 15, 15, 1);
+        x.rain(11, 1);
+        check.due("the rain is the twelfth hour", x.bestAwning(11, 0), 0);
+        check.due("nothing is washed off before", x.bestAwning(11, 1), 3);
+        check.due("behind it the awning is over the flag", x.bestAwning(12, 0), 255);
+        check.due("and nothing is washed off", x.bestAwning(12, 1), 3);
+        x.crowd(1, 15, 11, 20);
+        check.due("nobody walks before the hour 11", x.bestAwning(11, 1), 3);
+        check.due("two coats are taken in it", x.bestAwning(12, 1), 1);
+        x.pass(11);
+        check.due("now it is this hour", x.bestAwning(1, 0), 255);
+        check.due("with the crowd", x.bestAwning(1, 1), 1);
+    }
+
+    private void bestAwningIsTheBest() {
+        for (int hours = 1; hours <= 12; hours++) {
+            int best = NONE;
+            int most = NONE;
+            for (int flag = 0; flag < 256; flag++) {
+                ChalkSquares x = washed();
+                if (x.awning(flag / 16, flag % 16) == 1) {
+                    x.pass(hours);
+                    int coats = x.ofHue(1, 3) + x.ofHue(2, 3);
+                    if (coats > most) {
+                        best = flag;
+                        most = coats;
+                    }
+                }
+            }
+            check.due("the best awning for " + hours + " hours", washed().bestAwning(hours, 0), best);
+            check.due("what it leaves", washed().bestAwning(hours, 1), most);
+        }
+    }
+
+    /** Two columns and a row of flags with coats, some awnings, rain in each hour and two crowds. */
+    private static ChalkSquares washed() {
+        ChalkSquares x = new ChalkSquares();
+        x.set(ChalkSquares.COAT, 9);
+        x.chalk(1, 99);
+        x.chalk(2, 99);
+        for (int line = 0; line <= 15; line++) {
+            x.stroke(line, 4, 1);
+            x.stroke(line, 11, 2);
+            x.stroke(line, 11, 2);
+            x.stroke(6, line, 1);
+        }
+        x.awning(9, 4);
+        x.awning(6, 11);
+        x.awning(0, 0);
+        x.crowd(1, 4, 1, 24);
+        x.crowd(0, 6, 3, 17);
+        for (int hour = 0; hour < 12; hour++) {
+            x.rain(hour, 1 + 5 * hour % 3);
+        }
+        return x;
+    }
+
     private void bestAwningWithCrowds() {
         ChalkSquares x = new ChalkSquares();
         Scene.stroke(x, 0, 1, 1);
@@ -307,20 +472,24 @@ public final class WhatIfTest {
     }
 
     private void nothingChanges() {
+        String before = Whole.of(Scene::busy);
+        check.holds("what if changes nothing", before.equals(Whole.of(WhatIfTest::askedWhatIf)));
+    }
+
+    private static ChalkSquares askedWhatIf() {
         ChalkSquares x = Scene.busy();
-        Snapshot before = Snapshot.of(x);
+        for (int n = -1; n <= 49; n++) {
+            x.needs(n);
+            x.rightIn(n);
+            x.bestMark(n);
+        }
+        for (int n = 0; n <= 13; n++) {
+            x.bestAwning(n, 0);
+            x.bestAwning(n, 1);
+        }
         x.from(40, 1, 0);
-        x.bestMark(0);
-        x.needs(1);
+        x.from(2, 40, 15);
         x.lastsFor();
-        x.rightIn(48);
-        x.bestAwning(12, 0);
-        check.holds("what if changes nothing", Snapshot.of(x).isSameAs(before));
-        x.from(41, 1, 0);
-        x.bestMark(2);
-        x.needs(8);
-        x.rightIn(49);
-        x.bestAwning(13, 0);
-        check.holds("nor if it is refused", Snapshot.of(x).isSameAs(before));
+        return x;
     }
 }
