@@ -20,6 +20,8 @@ public final class HoursTest {
         test.washing();
         test.waterOfManyRains();
         test.walking();
+        test.eachFlagOfTheWay();
+        test.eachFlagWearsOff();
         test.feetAreCountedOn();
         test.feetOnFlagsThatBecomeBare();
         test.fewerFeetTakeACoat();
@@ -282,6 +284,42 @@ public final class HoursTest {
         check.due("left over in the column", x.at(0, 6, 4), 5);
         check.due("both on one flag", x.at(4, 6, 4), 5);
         check.due("left over in the row", x.at(4, 1, 4), 0);
+    }
+
+    private void eachFlagOfTheWay() {
+        for (int down = 0; down <= 1; down++) {
+            for (int line = 0; line <= 15; line++) {
+                ChalkSquares x = new ChalkSquares();
+                x.crowd(down, line, 0, 4);
+                x.pass(1);
+                int trodden = 0;
+                int beside = 0;
+                for (int flag = 0; flag < 256; flag++) {
+                    boolean onTheWay = (down == 0 ? flag / 16 : flag % 16) == line;
+                    int feet = x.at(flag / 16, flag % 16, 4);
+                    trodden += onTheWay ? feet : 0;
+                    beside += onTheWay ? 0 : feet;
+                }
+                check.due("feet on the way " + down + ", " + line, trodden, 64);
+                check.due("feet beside it", beside, 0);
+            }
+        }
+    }
+
+    private void eachFlagWearsOff() {
+        for (int flag = 0; flag < 256; flag++) {
+            ChalkSquares x = new ChalkSquares();
+            x.set(ChalkSquares.COAT, 9);
+            Scene.stroke(x, flag / 16, flag % 16, 1);
+            x.rain(0, 1);
+            x.pass(1);
+            check.due("rain on the flag " + flag, x.at(flag / 16, flag % 16, 1), 8);
+            x.crowd(flag % 2, flag % 2 == 0 ? flag / 16 : flag % 16, 1, 29);
+            x.pass(1);
+            check.due("feet on the flag " + flag, x.at(flag / 16, flag % 16, 1), 6);
+            x.rain(0, 9);
+            check.due("the flag " + flag + " becomes bare", x.pass(1), 1);
+        }
     }
 
     private void feetAreCountedOn() {

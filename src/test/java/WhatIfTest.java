@@ -12,6 +12,7 @@ public final class WhatIfTest {
         test.bestMark();
         test.bestMarkIsTheBest();
         test.bestMarkOfAsGoodOnes();
+        test.marksBesideThePavement();
         test.needs();
         test.needsIsWhatDrawTakes();
         test.lastsFor();
@@ -26,9 +27,11 @@ public final class WhatIfTest {
         test.bestAwningByHours();
         test.bestAwningForTwelveHours();
         test.bestAwningIsTheBest();
+        test.bestAwningForFewerHoursThen();
         test.bestAwningWithCrowds();
         test.allAwnings();
         test.boundOfHoursDoesNotMatter();
+        test.lookingFromElsewhereFirst();
         test.nothingChanges();
         test.check.end();
     }
@@ -148,6 +151,34 @@ public final class WhatIfTest {
         }
         check.due("nothing is drawn", y.bestMark(1), 0);
         check.due("so the lowest one", y.bestMark(0), 0);
+    }
+
+    /** A picture that stands upright from the column 16, or -1, alone: there is no such mark. */
+    private void marksBesideThePavement() {
+        int[] marks = {16, -1};
+        for (int mark : marks) {
+            ChalkSquares x = new ChalkSquares();
+            for (int row = 0; row <= 7; row++) {
+                x.row(row, 076543217 + row);
+            }
+            for (int hue = 1; hue <= 7; hue++) {
+                x.chalk(hue, 99);
+            }
+            for (int flag = 0; flag < 256; flag++) {
+                int g = 2 * (8 + flag / 16) + 1;
+                int row = 28 * (g - 16) / g / 2;
+                int column = Math.floorDiv(Math.floorDiv(2 * (flag % 16 - mark) * 16, g) + 8, 2);
+                if (row <= 7 && column >= 0 && column <= 7) {
+                    x.stroke(flag / 16, flag % 16, x.of(row, column, 0));
+                }
+            }
+            int best = 0;
+            for (int other = 0; other <= 15; other++) {
+                best = x.from(14, 8, other) > x.from(14, 8, best) ? other : best;
+            }
+            check.due("the best mark beside " + mark, x.bestMark(0), best);
+            check.due("what is right from there", x.bestMark(1), x.from(14, 8, best));
+        }
     }
 
     // Promise 22
@@ -397,6 +428,22 @@ public final class WhatIfTest {
         }
     }
 
+    private void bestAwningForFewerHoursThen() {
+        ChalkSquares x = new ChalkSquares();
+        Scene.stroke(x, 4, 7, 1);
+        x.rain(1, 1);
+        x.rain(11, 2);
+        check.due("for twelve hours", x.bestAwning(12, 0), 16 * 4 + 7);
+        check.due("1 of 3 of water comes from behind", x.bestAwning(12, 1), 2);
+        check.due("for two hours", x.bestAwning(2, 1), 3);
+        check.due("the awning matters", x.bestAwning(2, 0), 16 * 4 + 7);
+        check.due("for one hour it does not", x.bestAwning(1, 0), 0);
+        check.due("no rain yet", x.bestAwning(1, 1), 3);
+        x.pass(2);
+        check.due("and no more", x.bestAwning(9, 1), 2);
+        check.due("and no more", x.bestAwning(9, 0), 0);
+    }
+
     /** Two columns and a row of flags with coats, some awnings, rain in each hour and two crowds. */
     private static ChalkSquares washed() {
         ChalkSquares x = new ChalkSquares();
@@ -469,6 +516,41 @@ public final class WhatIfTest {
         check.due("bestAwning(12, 0)", x.bestAwning(12, 0), 4);
         check.due("3 - 2 coats", x.bestAwning(12, 1), 1);
         check.due("hours", x.count(0), 9999);
+    }
+
+    /** Each answer is the same whether something was looked at before from here, from elsewhere, or not at all. */
+    private void lookingFromElsewhereFirst() {
+        Call[] calls = {new Call("at", 0, 4, 2), new Call("at", 0, 4, 5), new Call("at", 0, 13, 5), new Call("of", 0, 4, 1),
+            new Call("of", 0, 4, 2), new Call("of", 0, 4, 3), new Call("of", 0, 4, 5), new Call("of", 0, 4, 6),
+            new Call("squares", 0, 0), new Call("squares", 1, 1), new Call("squares", 0, 3), new Call("count", 4),
+            new Call("count", 5), new Call("count", 7), new Call("needs", 2), new Call("lastsFor"), new Call("rightIn", 1),
+            new Call("bestMark", 0), new Call("draw", 0, 15), new Call("mend"), new Call("carryOut")};
+        int[] due = {0, 0, 1, 1,
+            2, 1, 1, 2,
+            247, 255, 255, 55,
+            8, 1, 1, 1, 48,
+            8, 2, 1, 1};
+        for (int i = 0; i < calls.length; i++) {
+            check.due(calls[i] + " at first", calls[i].on(rowToLookAt()), due[i]);
+            ChalkSquares fromElsewhere = rowToLookAt();
+            fromElsewhere.from(40, 1, 0);
+            check.due(calls[i] + " then", calls[i].on(fromElsewhere), due[i]);
+            ChalkSquares otherBefore = rowToLookAt();
+            otherBefore.set(ChalkSquares.MARK, 0);
+            otherBefore.bestMark(0);
+            otherBefore.set(ChalkSquares.MARK, 8);
+            check.due(calls[i] + " then", calls[i].on(otherBefore), due[i]);
+        }
+    }
+
+    private static ChalkSquares rowToLookAt() {
+        ChalkSquares x = Scene.rowDrawn();
+        x.square(0, 3, 2);
+        Scene.stroke(x, 0, 13, 3);
+        x.chalk(2, 9);
+        x.rain(0, 4);
+        x.put('d');
+        return x;
     }
 
     private void nothingChanges() {
