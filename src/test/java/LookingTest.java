@@ -14,6 +14,7 @@ public final class LookingTest {
         test.of();
         test.noneIsNoError();
         test.flagsOfAllSquares();
+        test.flagsOfEachHue();
         test.hueOfThePicture();
         test.lowestOfSeveralHues();
         test.outlines();
@@ -149,6 +150,22 @@ public final class LookingTest {
             check.due("flags of the square " + square, x.of(square / 8, square % 8, 2), flags[square]);
             check.due("bare ones", x.of(square / 8, square % 8, 6), flags[square]);
             check.due("right, if there are any", x.of(square / 8, square % 8, 3), flags[square] > 0 ? 1 : 0);
+        }
+    }
+
+    private void flagsOfEachHue() {
+        for (int hue = 0; hue <= 7; hue++) {
+            ChalkSquares x = new ChalkSquares();
+            x.square(7, 4, hue);
+            x.chalk(1 + hue % 7, 9);
+            x.stroke(8, 8, 1 + hue % 7);
+            for (int left = 1; hue > 0 && left <= 8; left++) {
+                Scene.stroke(x, 8 + left / 3, 8 + left % 3, hue);
+            }
+            check.due("flags of the square, whatever their hues are", x.of(7, 4, 2), 9);
+            check.due("flags that have the hue " + hue, x.of(7, 4, 6), 8);
+            check.due("the picture", x.of(7, 4, 1), hue);
+            check.due("right", x.of(7, 4, 3), 1);
         }
     }
 

@@ -9,18 +9,25 @@ public final class RandomRunsTest {
         "rain", "crowd", "pass", "at", "of", "squares", "ofHue", "rains", "count", "from", "bestMark", "needs",
         "lastsFor", "rightIn", "bestAwning", "put", "wipe", "fault", "carryOut", "undo", "save", "restore"};
     private static final int[] WEIGHTS = {4, 6, 8, 8, 20, 3, 8, 3, 8, 8, 5, 8, 14, 12, 10, 6, 4, 14, 4, 1, 4, 1, 3, 1,
-        14, 1, 6, 6, 7, 2, 3};
-    private static final String[] PIECES = {"d", ";", "h1", "h2", ";d", ";h1", "h0", "h48", "h49", "k1*9", ";k2*99",
-        "k0*1", "k7*999", "k3*1000", "r0=5", ";r1=9", "r99=1", "r100=1", "r0=0", "f-3@1*9", "f-3@1", "*25", "f|7",
-        "@2*1", "f|15@23*99", "f-16@0*1", "x", "00", "01", "@", "=", "9", "|", "-", "~", "!"};
+        14, 4, 6, 6, 7, 2, 3};
+    private static final String[] ORDERS = {"d", "d", "h1", "h2", "h48", "k1*9", "k2*99", "k7*999", "r0=5", "r1=9", "r99=1",
+        "f-3@1*9", "f|7@2*1", "f-0@0*9", "h0", "h49", "k0*1", "k8*1", "r100=1", "r0=0", "f|9@9*0"};
+    private static final String[] PIECES = {"x", "00", "01", "@", "=", "9", "|", "-", "~", "!", ";", "d", "h", "f-16@0*1",
+        "k3*1000", "*25", "f|15@", "23*99", "r", "h99", "k1*"};
+    /** Some runs leave methods out, or call them often: so rains, crowds and characters become too many. */
+    private static final int[] FACTORS = {0, 1, 1, 5};
 
     private final Random random;
+    private final int[] weights = new int[WEIGHTS.length];
     private final ChalkSquares x = new ChalkSquares();
     private final Reference y = new Reference();
     private final StringBuilder calls = new StringBuilder();
 
     private RandomRunsTest(long seed) {
         random = new Random(seed);
+        for (int i = 0; i < weights.length; i++) {
+            weights[i] = WEIGHTS[i] * FACTORS[random.nextInt(FACTORS.length)];
+        }
     }
 
     public static void main(String[] args) {
@@ -70,11 +77,11 @@ public final class RandomRunsTest {
 
     private String pick() {
         int sum = 0;
-        for (int weight : WEIGHTS) sum += weight;
+        for (int weight : weights) sum += weight;
         int place = random.nextInt(sum);
         int i = 0;
-        while (place >= WEIGHTS[i]) {
-            place -= WEIGHTS[i];
+        while (place >= weights[i]) {
+            place -= weights[i];
             i++;
         }
         return NAMES[i];
@@ -105,7 +112,10 @@ public final class RandomRunsTest {
     private long text() {
         if (random.nextInt(30) == 0) return random.nextLong();
         if (random.nextInt(30) == 0) return random.nextInt(3) == 0 ? 0 : 'd' * 65536L;
-        String piece = PIECES[random.nextInt(random.nextInt(3) == 0 ? PIECES.length : 16)];
+        String piece = PIECES[random.nextInt(PIECES.length)];
+        if (random.nextInt(12) > 0) {
+            piece = (y.count(16) == 0 ? "" : ";") + ORDERS[random.nextInt(ORDERS.length)];
+        }
         long number = 0;
         for (int i = 0; i < piece.length() && i < 8; i++) number = number << 8 | piece.charAt(i);
         return number;

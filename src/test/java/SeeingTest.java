@@ -9,6 +9,7 @@ public final class SeeingTest {
         test.quotientsBelowNothing();
         test.sumsBelowNothing();
         test.besideTheSketch();
+        test.settingsOneByOne();
         test.fromEachMark();
         test.check.end();
     }
@@ -57,6 +58,36 @@ public final class SeeingTest {
         check.due("the column 7", x.at(0, 12, 2), 7);
         check.due("the column 8", x.at(0, 13, 2), NONE);
         check.due("neither", x.at(15, 15, 2), NONE);
+    }
+
+    /** One object looks from many marks, each of which differs from the one before in one setting. */
+    private void settingsOneByOne() {
+        int[] firsts = {2, 8, 9, 14, 15};
+        for (int first : firsts) {
+            for (int setting = ChalkSquares.EYE; setting <= ChalkSquares.MARK; setting++) {
+                ChalkSquares x = new ChalkSquares();
+                int[] mark = {first, first, first};
+                for (int s = ChalkSquares.EYE; s <= ChalkSquares.MARK; s++) {
+                    x.set(s, first);
+                }
+                check.due("flags seen wrongly from " + first, seenWrongly(x, mark), 0);
+                for (int value : firsts) {
+                    x.set(setting, value);
+                    mark[setting] = value;
+                    check.due("flags seen wrongly with the setting " + setting + " from " + first + " to " + value,
+                        seenWrongly(x, mark), 0);
+                }
+            }
+        }
+    }
+
+    private static int seenWrongly(ChalkSquares x, int[] mark) {
+        int wrong = 0;
+        for (int flag = 0; flag < 256; flag += 5) {
+            int due = seen(mark[ChalkSquares.EYE], mark[ChalkSquares.AWAY], flag / 16, flag % 16 - mark[ChalkSquares.MARK]);
+            wrong += x.at(flag / 16, flag % 16, 2) == due ? 0 : 1;
+        }
+        return wrong;
     }
 
     private void fromEachMark() {

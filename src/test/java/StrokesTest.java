@@ -23,6 +23,8 @@ public final class StrokesTest {
         test.drawErrors();
         test.mend();
         test.mendAllOrNone();
+        test.mendEachSquare();
+        test.mendFromTheBottomOn();
         test.mendRubs();
         test.mendFromTheMark();
         test.mendLooksAtThePicture();
@@ -311,6 +313,47 @@ public final class StrokesTest {
         check.due("the first flag", x.at(0, 8, 1), 3);
         check.due("the second flag", x.at(0, 9, 1), 3);
         check.due("strokes so far", x.count(8), 3);
+    }
+
+    private void mendEachSquare() {
+        ChalkSquares x = new ChalkSquares();
+        for (int row = 0; row <= 7; row++) {
+            x.row(row, 012345671);
+        }
+        for (int hue = 1; hue <= 7; hue++) {
+            x.chalk(hue, 99);
+        }
+        check.due("56 squares are not blind", x.mend(), 56);
+        check.due("and right then", x.count(4), 56);
+        check.due("none is left to draw", x.draw(0, 15), 0);
+        check.due("nor to mend", x.mend(), 0);
+        x.square(7, 0, 0);
+        x.square(7, 7, 2);
+        x.square(4, 3, 1);
+        check.due("three are not right", x.count(4), 53);
+        check.due("three are mended", x.mend(), 3);
+        check.due("the last flag of the square (7, 7)", x.at(10, 15, 0), 2);
+        check.due("the last flag of the square (7, 0)", x.at(10, 0, 0), 0);
+        check.due("none is left to draw", x.draw(0, 15), 0);
+    }
+
+    private void mendFromTheBottomOn() {
+        ChalkSquares x = new ChalkSquares();
+        // The square (7, 4) is seen through nine flags, (2, 4) and (0, 4) through two each.
+        x.square(7, 4, 6);
+        x.square(2, 4, 6);
+        x.square(0, 4, 6);
+        x.chalk(6, 2);
+        check.due("the lowest square is drawn first", x.mend(), 1);
+        check.due("(0, 4)", x.of(0, 4, 3), 1);
+        x.chalk(6, 10);
+        check.due("then (2, 4); eight are too few for (7, 4)", x.mend(), 1);
+        check.due("(2, 4)", x.of(2, 4, 3), 1);
+        check.due("eight are left", x.ofHue(6, 0), 8);
+        check.due("no flag of it is drawn", x.of(7, 4, 6), 0);
+        x.chalk(6, 1);
+        check.due("nine suffice", x.mend(), 1);
+        check.due("all nine are drawn", x.of(7, 4, 6), 9);
     }
 
     private void mendRubs() {

@@ -22,6 +22,7 @@ public final class UndoTest {
         test.restore();
         test.slotsInWhichNothingWasSaved();
         test.restoreEverything();
+        test.asMuchAsThereCanBe();
         test.savedStatesStand();
         test.saveChangesTheSlotAlone();
         test.wrongSlots();
@@ -316,6 +317,46 @@ public final class UndoTest {
     private void restoreEverything() {
         String before = Whole.stateOf(Scene::busy);
         check.holds("everything is restored", before.equals(Whole.stateOf(UndoTest::restored)));
+    }
+
+    /** 24 rains, each in an hour of its own, and 12 crowds, each in an hour and on a row of its own. */
+    private static ChalkSquares asMuchTold() {
+        ChalkSquares x = new ChalkSquares();
+        for (int n = 0; n < 24; n++) {
+            x.rain(4 * n, 1 + n % 9);
+        }
+        for (int n = 0; n < 12; n++) {
+            x.crowd(0, n, 2 * n, 1 + n);
+        }
+        return x;
+    }
+
+    private void asMuchAsThereCanBe() {
+        ChalkSquares x = asMuchTold();
+        x.save(0);
+        x.pass(24);
+        check.due("six rains are over", x.count(1), 18);
+        check.due("undo", x.undo(), 5);
+        allIsTold(x, "behind undo");
+        x.pass(48);
+        check.due("twelve rains are over", x.count(1), 12);
+        check.due("restore", x.restore(0), 0);
+        allIsTold(x, "behind restore");
+        x.restore(0);
+        check.due("24 hours", x.pass(24), 0);
+        for (int n = 0; n < 12; n++) {
+            check.due("feet on the row " + n, x.at(n, 3, 4), (1 + n) % 10);
+        }
+    }
+
+    private void allIsTold(ChalkSquares x, String when) {
+        check.due("rains " + when, x.count(1), 24);
+        for (int n = 0; n < 24; n++) {
+            check.due("rain " + n + " " + when, x.rains(4 * n), 1 + n % 9);
+        }
+        check.due("one more " + when, x.rain(0, 1), ChalkSquares.TOO_MANY);
+        check.due("crowds " + when, x.count(2), 12);
+        check.due("one more " + when, x.crowd(0, 0, 0, 1), ChalkSquares.TOO_MANY);
     }
 
     private static ChalkSquares restored() {

@@ -17,6 +17,7 @@ public final class WhatIfTest {
         test.needsIsWhatDrawTakes();
         test.lastsFor();
         test.lastsForOneHour();
+        test.rainsAndCrowdsToldLast();
         test.lastsForTwoHundredHours();
         test.lastsThoughMoreAreRightFirst();
         test.rightIn();
@@ -249,6 +250,27 @@ public final class WhatIfTest {
         x.row(0, 0);
         check.due("all that are not blind are right", x.count(4), 56);
         check.due("and stay so", x.lastsFor(), NONE);
+    }
+
+    /** The last rain and the last crowd that can be told count as the first ones do. */
+    private void rainsAndCrowdsToldLast() {
+        ChalkSquares x = Scene.rowDrawn();
+        for (int n = 0; n < 23; n++) {
+            x.rain(99, 1);
+        }
+        for (int n = 0; n < 11; n++) {
+            x.crowd(0, 15, 0, 1);
+        }
+        check.due("nothing touches the picture for 99 hours", x.lastsFor(), 100);
+        x.crowd(0, 0, 3, 30);
+        check.due("the twelfth crowd does", x.lastsFor(), 4);
+        check.due("behind three hours", x.rightIn(3), 56);
+        check.due("behind four hours", x.rightIn(4), 48);
+        x.rain(1, 3);
+        check.due("the 24th rain does", x.lastsFor(), 2);
+        check.due("behind two hours", x.rightIn(2), 48);
+        check.due("one awning saves 1 of 3 coats", x.bestAwning(2, 1), 1);
+        check.due("not from the crowd", x.bestAwning(4, 1), 0);
     }
 
     private void lastsForTwoHundredHours() {
